@@ -1,0 +1,2559 @@
+import java.util.NoSuchElementException;
+
+/**
+ * A desk for real algebraic numbers. Lines of a small language come over a tape; every result is held as its
+ * polynomial of least degree and the number of the root that it is.
+ *
+ * How a result is found: a polynomial that has it as a root is built from those of the two numbers, its factors are
+ * searched modulo a power of a prime, and the factor that has the result as a root is told by binary digits.
+ */
+public final class RootAlgebra {
+    private static final int NAMES = 16;
+    private static final int IT = 16;
+    private static final int TAPE = 400;
+    private static final int TEXT = 128;
+    private static final int MOST_PLACES = 30;
+    private static final int HIGHEST = 6;
+    private static final int LIMIT = 2147483647;
+
+    private static final int NO_LINE = -1;
+    private static final int NO_NAME_VALUE = -2;
+    private static final int NO_VALUE = -3;
+    private static final int TOO_HIGH = -4;
+    private static final int BY_ZERO = -5;
+    private static final int EVEN_BELOW_ZERO = -6;
+    private static final int NO_ROOT = -7;
+
+    private final byte[] tape;
+    private int fed;
+    private final Text text;
+    private final Val[] values;
+    private final Reader reader;
+    private final Desk desk;
+    private int place;
+    private int done;
+
+    public RootAlgebra() {
+        tape = new byte[TAPE];
+        text = new Text();
+        values = new Val[NAMES + 1];
+        for (int i = 0; i <= NAMES; i++) {
+            values[i] = new Val();
+        }
+        values[IT].setFraction(0, 1);
+        reader = new Reader();
+        desk = new Desk();
+        place = -1;
+    }
+
+    public int feed(int n, long v) throws IllegalArgumentException, IllegalStateException {
+        if (n < 1 || n > 8) {
+            throw new IllegalArgumentException();
+        }
+        if (fed + n > TAPE) {
+            throw new IllegalStateException();
+        }
+        for (int i = 0; i < n; i++) {
+            tape[fed + i] = (byte) (v >>> (8 * i));
+        }
+        fed += n;
+        return fed;
+    }
+
+    public int line() {
+        int length = fed;
+        fed = 0;
+        if (!reader.reads(tape, length)) {
+            place = reader.at;
+            return NO_LINE;
+        }
+        desk.start();
+        int answer = 0;
+        for (int i = 0; i < Reader.ROOM && answer == 0 && desk.at < reader.size; i++) {
+            answer = desk.step(reader.code, reader.size, values);
+            if (answer == Desk.TO_SEARCH) {
+                answer = desk.search();
+            }
+            if (answer == Desk.TO_SETTLE) {
+                answer = desk.settle();
+            }
+        }
+        if (answer < 0) {
+            return answer;
+        }
+        if (reader.target >= 0 && reader.target < NAMES) {
+            values[reader.target].copy(desk.result());
+        }
+        values[IT].copy(desk.result());
+        done++;
+        return 0;
+    }
+
+    public int look(int what) throws IllegalArgumentException {
+        switch (what) {
+            case 0:
+                return namesWithValue();
+            case 1:
+                return place;
+            case 2:
+                return fed;
+            case 3:
+                return text.length;
+            case 4:
+                return done;
+            default:
+                throw new IllegalArgumentException();
+        }
+    }
+
+    public int degree(int name) throws IllegalArgumentException {
+        if (!isName(name)) {
+            throw new IllegalArgumentException();
+        }
+        return values[name].degree;
+    }
+
+    public int coefficient(int name, int k) throws IllegalArgumentException, NoSuchElementException {
+        if (!isName(name)) {
+            throw new IllegalArgumentException();
+        }
+        Val v = values[name];
+        if (v.degree == 0 || k < 0 || k > v.degree) {
+            throw new NoSuchElementException();
+        }
+        return v.c[k];
+    }
+
+    public int index(int name) throws IllegalArgumentException, NoSuchElementException {
+        if (!isName(name)) {
+            throw new IllegalArgumentException();
+        }
+        if (values[name].degree == 0) {
+            throw new NoSuchElementException();
+        }
+        return values[name].index;
+    }
+
+    public int roots(int name) throws IllegalArgumentException, NoSuchElementException {
+        if (!isName(name)) {
+            throw new IllegalArgumentException();
+        }
+        if (values[name].degree == 0) {
+            throw new NoSuchElementException();
+        }
+        return values[name].roots;
+    }
+
+    public int compare(int name, int other) throws IllegalArgumentException, NoSuchElementException {
+        if (!isName(name) || !isName(other)) {
+            throw new IllegalArgumentException();
+        }
+        if (values[name].degree == 0 || values[other].degree == 0) {
+            throw new NoSuchElementException();
+        }
+        return desk.gauge.order(values[name], values[other]);
+    }
+
+    public int floor(int name, int n) throws IllegalArgumentException, NoSuchElementException {
+        if (!isName(name) || n < 0 || n > MOST_PLACES) {
+            throw new IllegalArgumentException();
+        }
+        if (values[name].degree == 0) {
+            throw new NoSuchElementException();
+        }
+        text.clear();
+        text.putBig(desk.gauge.wholePart(values[name], n));
+        return text.length;
+    }
+
+    public int write(int name) throws IllegalArgumentException, NoSuchElementException {
+        if (!isName(name)) {
+            throw new IllegalArgumentException();
+        }
+        Val v = values[name];
+        if (v.degree == 0) {
+            throw new NoSuchElementException();
+        }
+        text.clear();
+        for (int i = 0; i <= v.degree; i++) {
+            text.put(i == 0 ? '[' : ',');
+            text.putNumber(v.c[i]);
+        }
+        text.put(']');
+        text.put('#');
+        text.putNumber(v.index);
+        return text.length;
+    }
+
+    public long out(int k) throws NoSuchElementException {
+        if (k < 0 || k >= text.length) {
+            throw new NoSuchElementException();
+        }
+        long eight = 0;
+        for (int i = 7; i >= 0; i--) {
+            int b = k + i < text.length ? text.bytes[k + i] & 0xFF : 0;
+            eight = eight << 8 | b;
+        }
+        return eight;
+    }
+
+    public boolean drop(int name) throws IllegalArgumentException {
+        if (name < 0 || name >= NAMES) {
+            throw new IllegalArgumentException();
+        }
+        boolean had = values[name].degree != 0;
+        values[name].degree = 0;
+        return had;
+    }
+
+    private boolean isName(int name) {
+        return name >= 0 && name <= IT;
+    }
+
+    private int namesWithValue() {
+        int count = 0;
+        for (int i = 0; i < NAMES; i++) {
+            if (values[i].degree != 0) {
+                count++;
+            }
+        }
+        return count;
+    }
+
+    /** The bytes that were written latest. */
+    private static final class Text {
+        private static final int BILLION = 1000000000;
+        private final byte[] bytes;
+        private final byte[] reversed;
+        private final Big rest;
+        private int length;
+
+        Text() {
+            bytes = new byte[TEXT];
+            reversed = new byte[TEXT];
+            rest = new Big(12);
+        }
+
+        void clear() {
+            length = 0;
+        }
+
+        void put(int b) {
+            if (length < bytes.length) {
+                bytes[length] = (byte) b;
+                length++;
+            }
+        }
+
+        void putNumber(long v) {
+            rest.setLong(v);
+            putRest();
+        }
+
+        void putBig(Big v) {
+            rest.set(v);
+            putRest();
+        }
+
+        private void putRest() {
+            if (rest.sign < 0) {
+                put('-');
+            }
+            int count = 0;
+            for (int i = 0; i < 12 && (rest.sign != 0 || i == 0); i++) {
+                int nine = rest.divide(BILLION);
+                for (int j = 0; j < 9 && (nine != 0 || rest.sign != 0 || count == 0); j++) {
+                    reversed[count] = (byte) ('0' + nine % 10);
+                    nine /= 10;
+                    count++;
+                }
+            }
+            for (int i = count - 1; i >= 0; i--) {
+                put(reversed[i]);
+            }
+        }
+    }
+
+    /** A whole number of any sign in a row that is made once; the row's room is set by who makes it. */
+    private static final class Big {
+        private static final long LOW = 0xFFFFFFFFL;
+        private final int[] words;
+        private int size;
+        private int sign;
+
+        Big(int room) {
+            words = new int[room];
+        }
+
+        void setLong(long v) {
+            sign = v < 0 ? -1 : v > 0 ? 1 : 0;
+            long rest = v < 0 ? -v : v;
+            size = 0;
+            for (int i = 0; i < 2 && i < words.length && rest != 0; i++) {
+                words[i] = (int) rest;
+                rest >>>= 32;
+                size = i + 1;
+            }
+        }
+
+        void set(Big o) {
+            size = Math.min(o.size, words.length);
+            System.arraycopy(o.words, 0, words, 0, size);
+            sign = o.sign;
+            trim();
+        }
+
+        void negate() {
+            sign = -sign;
+        }
+
+        /** Of a number that has at most 63 bits. */
+        long toLong() {
+            long low = size > 0 ? words[0] & LOW : 0;
+            long high = size > 1 ? words[1] & LOW : 0;
+            long all = high << 32 | low;
+            return sign < 0 ? -all : all;
+        }
+
+        int bits() {
+            if (size == 0) {
+                return 0;
+            }
+            return 32 * size - Integer.numberOfLeadingZeros(words[size - 1]);
+        }
+
+        boolean isOdd() {
+            return size > 0 && (words[0] & 1) != 0;
+        }
+
+        /** The bits of the magnitude from a place on; at most 62 are there. */
+        long top(int from) {
+            int whole = from >> 5;
+            int part = from & 31;
+            long a = whole < size ? words[whole] & LOW : 0;
+            long b = whole + 1 < size ? words[whole + 1] & LOW : 0;
+            long c = whole + 2 < size ? words[whole + 2] & LOW : 0;
+            long low = (b << 32 | a) >>> part;
+            return part == 0 ? low : low | c << (64 - part);
+        }
+
+        int order(Big o) {
+            if (sign != o.sign) {
+                return sign < o.sign ? -1 : 1;
+            }
+            if (size != o.size) {
+                return size < o.size ? -sign : sign;
+            }
+            for (int i = size - 1; i >= 0; i--) {
+                if (words[i] != o.words[i]) {
+                    return (words[i] & LOW) < (o.words[i] & LOW) ? -sign : sign;
+                }
+            }
+            return 0;
+        }
+
+        void addTimes(Big o, int m) {
+            if (m == 0 || o.sign == 0) {
+                return;
+            }
+            int s = m < 0 ? -o.sign : o.sign;
+            long f = m < 0 ? -(long) m : m;
+            if (sign == 0) {
+                sign = s;
+            }
+            boolean same = sign == s;
+            int end = widen(Math.max(size, o.size) + 1);
+            long carry = 0;
+            for (int i = 0; i < end; i++) {
+                long part = i < o.size ? (o.words[i] & LOW) * f : 0;
+                long t = (words[i] & LOW) + carry + (same ? part : -part);
+                words[i] = (int) t;
+                carry = t >> 32;
+            }
+            if (carry < 0) {
+                complement();
+            }
+            trim();
+        }
+
+        /** Of a number with at most 62 bits. */
+        void addLong(long v) {
+            if (v == 0) {
+                return;
+            }
+            int s = v < 0 ? -1 : 1;
+            long rest = v < 0 ? -v : v;
+            if (sign == 0) {
+                sign = s;
+            }
+            boolean same = sign == s;
+            int end = widen(Math.max(size, 2) + 1);
+            long carry = 0;
+            for (int i = 0; i < end; i++) {
+                long part = rest & LOW;
+                rest >>>= 32;
+                long t = (words[i] & LOW) + carry + (same ? part : -part);
+                words[i] = (int) t;
+                carry = t >> 32;
+            }
+            if (carry < 0) {
+                complement();
+            }
+            trim();
+        }
+
+        void scale(int m) {
+            if (m == 1 || sign == 0) {
+                return;
+            }
+            if (m == 0) {
+                setLong(0);
+                return;
+            }
+            sign = m < 0 ? -sign : sign;
+            long f = m < 0 ? -(long) m : m;
+            int end = widen(size + 1);
+            long carry = 0;
+            for (int i = 0; i < end; i++) {
+                long t = (words[i] & LOW) * f + carry;
+                words[i] = (int) t;
+                carry = t >>> 32;
+            }
+            trim();
+        }
+
+        /** Divides the magnitude by a number above 0; what is left over. */
+        int divide(int d) {
+            if (d <= 0) {
+                return 0;
+            }
+            long rest = 0;
+            for (int i = size - 1; i >= 0; i--) {
+                long t = rest << 32 | words[i] & LOW;
+                words[i] = (int) (t / d);
+                rest = t % d;
+            }
+            trim();
+            return (int) rest;
+        }
+
+        void divideDown(int d) {
+            boolean below = sign < 0;
+            int rest = divide(d);
+            if (below && rest != 0) {
+                addLong(-1);
+            }
+        }
+
+        void setProduct(Big a, Big b) {
+            sign = a.sign * b.sign;
+            size = sign == 0 ? 0 : Math.min(a.size + b.size, words.length);
+            for (int i = 0; i < size; i++) {
+                words[i] = 0;
+            }
+            for (int i = 0; i < a.size && i < size; i++) {
+                long f = a.words[i] & LOW;
+                int end = Math.min(b.size, size - i);
+                long carry = 0;
+                for (int j = 0; j < end; j++) {
+                    long t = f * (b.words[j] & LOW) + (words[i + j] & LOW) + carry;
+                    words[i + j] = (int) t;
+                    carry = t >>> 32;
+                }
+                if (i + end < size) {
+                    words[i + end] = (int) carry;
+                }
+            }
+            trim();
+        }
+
+        void shiftUp(int bits) {
+            if (bits <= 0 || sign == 0) {
+                return;
+            }
+            int whole = bits >> 5;
+            int part = bits & 31;
+            int had = size;
+            int end = Math.min(had + whole + 1, words.length);
+            for (int i = end - 1; i >= 0; i--) {
+                int from = i - whole;
+                long high = from >= 0 && from < had ? words[from] & LOW : 0;
+                long low = from >= 1 && from <= had ? words[from - 1] & LOW : 0;
+                words[i] = (int) (high << part | low << part >>> 32);
+            }
+            size = end;
+            trim();
+        }
+
+        /** Rounds down, also below 0. */
+        void shiftDown(int bits) {
+            if (bits <= 0 || sign == 0) {
+                return;
+            }
+            boolean lost = sign < 0 && hasBitBelow(bits);
+            int whole = bits >> 5;
+            int part = bits & 31;
+            int end = Math.max(0, size - whole);
+            for (int i = 0; i < end; i++) {
+                long low = words[i + whole] & LOW;
+                long high = i + whole + 1 < size ? words[i + whole + 1] & LOW : 0;
+                words[i] = (int) ((high << 32 | low) >>> part);
+            }
+            size = end;
+            trim();
+            if (lost) {
+                addLong(-1);
+            }
+        }
+
+        private boolean hasBitBelow(int bits) {
+            int whole = bits >> 5;
+            for (int i = 0; i < whole && i < size; i++) {
+                if (words[i] != 0) {
+                    return true;
+                }
+            }
+            int part = bits & 31;
+            return whole < size && (words[whole] & (1 << part) - 1) != 0;
+        }
+
+        private int widen(int wanted) {
+            int end = Math.min(wanted, words.length);
+            for (int i = size; i < end; i++) {
+                words[i] = 0;
+            }
+            size = end;
+            return end;
+        }
+
+        private void complement() {
+            long carry = 1;
+            for (int i = 0; i < size; i++) {
+                long t = (~words[i] & LOW) + carry;
+                words[i] = (int) t;
+                carry = t >>> 32;
+            }
+            sign = -sign;
+        }
+
+        private void trim() {
+            while (size > 0 && words[size - 1] == 0) {
+                size--;
+            }
+            if (size == 0) {
+                sign = 0;
+            }
+        }
+    }
+
+    /** A polynomial with whole coefficients, the lowest one first. */
+    private static final class Poly {
+        private static final int MOST = 12;
+        private static final int ROOM = 34;
+        private final Big[] c;
+        private int degree;
+
+        Poly() {
+            c = new Big[MOST + 1];
+            for (int i = 0; i <= MOST; i++) {
+                c[i] = new Big(ROOM);
+            }
+        }
+
+        void set(Val v) {
+            degree = v.degree;
+            for (int i = 0; i <= degree; i++) {
+                c[i].setLong(v.c[i]);
+            }
+        }
+
+        /** f of x to the k. */
+        void setStretched(Val v, int k) {
+            degree = v.degree * k;
+            for (int i = 0; i <= degree && i <= MOST; i++) {
+                c[i].setLong(i % k == 0 ? v.c[i / k] : 0);
+            }
+        }
+
+        int mostBits() {
+            int most = 0;
+            for (int i = 0; i <= degree; i++) {
+                most = Math.max(most, c[i].bits());
+            }
+            return most;
+        }
+
+        /** Divides by a value's polynomial as often as that goes; whether it went once. */
+        boolean strip(Val v, Poly work) {
+            boolean once = false;
+            for (int i = 0; i <= MOST && degree >= v.degree && divides(v, work); i++) {
+                once = true;
+                degree -= v.degree;
+                for (int j = 0; j <= degree; j++) {
+                    c[j].set(work.c[j + v.degree]);
+                }
+            }
+            return once;
+        }
+
+        /** Leaves the quotient in work from the divisor's degree on; as the divisor has no content, it is whole. */
+        private boolean divides(Val v, Poly work) {
+            int d = v.degree;
+            for (int i = 0; i <= degree; i++) {
+                work.c[i].set(c[i]);
+            }
+            for (int j = degree; j >= d; j--) {
+                Big q = work.c[j];
+                if (q.divide(v.c[d]) != 0) {
+                    return false;
+                }
+                for (int i = 0; i < d; i++) {
+                    work.c[j - d + i].addTimes(q, -v.c[i]);
+                }
+            }
+            for (int i = 0; i < d; i++) {
+                if (work.c[i].sign != 0) {
+                    return false;
+                }
+            }
+            return true;
+        }
+    }
+
+    /**
+     * A value: its polynomial and which of its real roots it is. From degree 2 on it is the only root between
+     * low and low + 1, both over 2 to the scale; neither of them is a root, as those are not rational.
+     */
+    private static final class Val {
+        private static final int ROOM = 12;
+        private final int[] c;
+        private final Big low;
+        private int degree;
+        private int index;
+        private int roots;
+        private int negatives;
+        private int scale;
+
+        Val() {
+            c = new int[HIGHEST + 1];
+            low = new Big(ROOM);
+        }
+
+        void setFraction(int n, int d) {
+            degree = 1;
+            c[0] = -n;
+            c[1] = d;
+            finishFraction();
+        }
+
+        void finishFraction() {
+            index = 0;
+            roots = 1;
+            negatives = c[0] > 0 ? 1 : 0;
+            scale = 0;
+            low.setLong(0);
+        }
+
+        /** Whether the fraction is a value. */
+        boolean setQuotient(long n, long d) {
+            long g = commonDivisor(n < 0 ? -n : n, d);
+            long top = g == 0 ? n : n / g;
+            long bottom = g == 0 ? d : d / g;
+            if (top > LIMIT || top < -LIMIT || bottom > LIMIT || bottom < 1) {
+                return false;
+            }
+            setFraction((int) top, (int) bottom);
+            return true;
+        }
+
+        private static long commonDivisor(long a, long b) {
+            long x = a;
+            long y = b;
+            for (int i = 0; i < 200 && y != 0; i++) {
+                long rest = x % y;
+                x = y;
+                y = rest;
+            }
+            return x;
+        }
+
+        void copy(Val o) {
+            degree = o.degree;
+            System.arraycopy(o.c, 0, c, 0, HIGHEST + 1);
+            low.set(o.low);
+            index = o.index;
+            roots = o.roots;
+            negatives = o.negatives;
+            scale = o.scale;
+        }
+
+        boolean isZero() {
+            return degree == 1 && c[0] == 0;
+        }
+
+        boolean isNegative() {
+            return degree == 1 ? c[0] > 0 : low.sign < 0;
+        }
+
+        boolean hasPolynomialOf(Val o) {
+            if (degree != o.degree) {
+                return false;
+            }
+            for (int i = 0; i <= degree; i++) {
+                if (c[i] != o.c[i]) {
+                    return false;
+                }
+            }
+            return true;
+        }
+
+        void negate() {
+            for (int i = degree - 1; i >= 0; i -= 2) {
+                c[i] = -c[i];
+            }
+            if (degree == 1) {
+                finishFraction();
+                return;
+            }
+            index = roots - 1 - index;
+            negatives = roots - negatives;
+            low.addLong(1);
+            low.negate();
+        }
+
+        /** The polynomial and the index of 1 over the number; where it lies is to be found then. */
+        void invert() {
+            int flip = c[0] < 0 ? -1 : 1;
+            for (int i = 0; i <= degree - i; i++) {
+                int kept = c[i];
+                c[i] = flip * c[degree - i];
+                c[degree - i] = flip * kept;
+            }
+            if (degree == 1) {
+                finishFraction();
+            } else if (index < negatives) {
+                index = negatives - 1 - index;
+            } else {
+                index = negatives + roots - 1 - index;
+            }
+        }
+
+        void lieAt(Isolator found, int number) {
+            if (number < 0 || number >= found.count) {
+                return;
+            }
+            index = number;
+            roots = found.count;
+            negatives = found.negatives;
+            low.set(found.low[number]);
+            scale = found.scale[number];
+        }
+    }
+
+    /** Reads a line as a whole and leaves what is to be worked, each operation behind its numbers. */
+    private static final class Reader {
+        private static final int ROOM = 1000;
+        private static final int DEEPEST = 12;
+        private static final int MOST_DIGITS = 9;
+        private static final int MOST_COEFFICIENTS = 9;
+        private static final int NUMBER = 1;
+        private static final int NAME = 2;
+        private static final int NEGATE = 3;
+        private static final int ADD = 4;
+        private static final int SUBTRACT = 5;
+        private static final int MULTIPLY = 6;
+        private static final int DIVIDE = 7;
+        private static final int ROOT = 8;
+        private static final int POLYNOMIAL = 9;
+        private static final int ORDER = 10;
+
+        private final int[] code;
+        private byte[] tape;
+        private int length;
+        private int at;
+        private int size;
+        private int target;
+
+        Reader() {
+            code = new int[ROOM];
+        }
+
+        /** When it is false, at is the place. */
+        boolean reads(byte[] bytes, int count) {
+            tape = bytes;
+            length = count;
+            at = 0;
+            size = 0;
+            readTarget();
+            if (!sum(0)) {
+                return false;
+            }
+            if (next() == '?') {
+                at++;
+                if (!sum(0)) {
+                    return false;
+                }
+                emit(ORDER);
+            }
+            return next() < 0;
+        }
+
+        private void readTarget() {
+            target = -1;
+            int c = next();
+            if (c < 'a' || c > 'p') {
+                return;
+            }
+            int start = at;
+            at++;
+            if (next() == '=') {
+                target = c - 'a';
+                at++;
+            } else {
+                at = start;
+            }
+        }
+
+        /** The byte at the next place that is no blank, -1 at the end. */
+        private int next() {
+            while (at < length && tape[at] == ' ') {
+                at++;
+            }
+            return at < length ? tape[at] & 0xFF : -1;
+        }
+
+        private void emit(int word) {
+            if (size < ROOM) {
+                code[size] = word;
+                size++;
+            }
+        }
+
+        private boolean sum(int depth) {
+            if (!product(depth)) {
+                return false;
+            }
+            int c = next();
+            for (int i = 0; i < TAPE && (c == '+' || c == '-'); i++) {
+                at++;
+                if (!product(depth)) {
+                    return false;
+                }
+                emit(c == '+' ? ADD : SUBTRACT);
+                c = next();
+            }
+            return true;
+        }
+
+        private boolean product(int depth) {
+            if (!factor(depth)) {
+                return false;
+            }
+            int c = next();
+            for (int i = 0; i < TAPE && (c == '*' || c == '/'); i++) {
+                at++;
+                if (!factor(depth)) {
+                    return false;
+                }
+                emit(c == '*' ? MULTIPLY : DIVIDE);
+                c = next();
+            }
+            return true;
+        }
+
+        /** Signs are counted, not nested, as a line may have hundreds of them. */
+        private boolean factor(int depth) {
+            boolean minus = false;
+            int c = next();
+            for (int i = 0; i < TAPE && c == '-'; i++) {
+                minus = !minus;
+                at++;
+                c = next();
+            }
+            if (!plainFactor(c, depth)) {
+                return false;
+            }
+            if (minus) {
+                emit(NEGATE);
+            }
+            return true;
+        }
+
+        private boolean plainFactor(int c, int depth) {
+            if (c >= '0' && c <= '9') {
+                emit(NUMBER);
+                return number(1);
+            }
+            if (c >= 'a' && c <= 'p') {
+                at++;
+                emit(NAME);
+                emit(c - 'a');
+                return true;
+            }
+            if (c == '(') {
+                return bracket(depth);
+            }
+            if (c == '#') {
+                return rootOfOrder(depth);
+            }
+            return c == '@' && rootOfPolynomial(depth);
+        }
+
+        /** Emits the number, times a sign. */
+        private boolean number(int sign) {
+            int value = 0;
+            int digits = 0;
+            for (int i = 0; i <= MOST_DIGITS && at < length && tape[at] >= '0' && tape[at] <= '9'; i++) {
+                if (digits == MOST_DIGITS) {
+                    return false;
+                }
+                value = value * 10 + (tape[at] - '0');
+                digits++;
+                at++;
+            }
+            emit(sign * value);
+            return digits > 0;
+        }
+
+        private boolean opens(int depth) {
+            if (next() != '(' || depth >= DEEPEST) {
+                return false;
+            }
+            at++;
+            return true;
+        }
+
+        private boolean bracket(int depth) {
+            if (!opens(depth) || !sum(depth + 1) || next() != ')') {
+                return false;
+            }
+            at++;
+            return true;
+        }
+
+        private boolean rootOfOrder(int depth) {
+            at++;
+            int k = next();
+            if (k < '2' || k > '6') {
+                return false;
+            }
+            at++;
+            if (!bracket(depth)) {
+                return false;
+            }
+            emit(ROOT);
+            emit(k - '0');
+            return true;
+        }
+
+        private boolean rootOfPolynomial(int depth) {
+            at++;
+            int i = next();
+            if (i < '0' || i > '7') {
+                return false;
+            }
+            at++;
+            if (!opens(depth)) {
+                return false;
+            }
+            emit(POLYNOMIAL);
+            emit(i - '0');
+            int counted = size;
+            emit(0);
+            for (int k = 1; k <= MOST_COEFFICIENTS; k++) {
+                if (!coefficientText()) {
+                    return false;
+                }
+                int c = next();
+                if (c == ')') {
+                    at++;
+                    if (counted < ROOM) {
+                        code[counted] = k;
+                    }
+                    return true;
+                }
+                if (c != ',' || k == MOST_COEFFICIENTS) {
+                    return false;
+                }
+                at++;
+            }
+            return false;
+        }
+
+        private boolean coefficientText() {
+            int sign = 1;
+            if (next() == '-') {
+                sign = -1;
+                at++;
+                next();
+            }
+            return number(sign);
+        }
+    }
+
+    /** Works what was read, on a stack of values. */
+    private static final class Desk {
+        private static final int TO_SEARCH = 1;
+        private static final int TO_SETTLE = 2;
+        private static final int DEEP = 40;
+        private static final int HIGHEST_PRODUCT = 12;
+        private static final int ROUNDS = 8;
+
+        private final Val[] stack;
+        private final Val found;
+        private final Poly poly;
+        private final Poly candidate;
+        private final Poly work;
+        private final Sums sums;
+        private final Factors factors;
+        private final Isolator isolator;
+        private final Gauge gauge;
+        private int top;
+        private int at;
+
+        Desk() {
+            stack = new Val[DEEP];
+            for (int i = 0; i < DEEP; i++) {
+                stack[i] = new Val();
+            }
+            found = new Val();
+            poly = new Poly();
+            candidate = new Poly();
+            work = new Poly();
+            sums = new Sums();
+            factors = new Factors();
+            isolator = new Isolator();
+            gauge = new Gauge();
+        }
+
+        void start() {
+            top = 0;
+            at = 0;
+        }
+
+        Val result() {
+            return stack[0];
+        }
+
+        /** One operation: 0, an answer below 0, or what is still to be done for it. */
+        int step(int[] code, int size, Val[] values) {
+            int word = at < size ? code[at] : 0;
+            int detail = at + 1 < size ? code[at + 1] : 0;
+            at++;
+            switch (word) {
+                case Reader.NUMBER:
+                    at++;
+                    return push(null, detail);
+                case Reader.NAME:
+                    at++;
+                    Val v = values[detail & NAMES - 1];
+                    return v.degree == 0 ? NO_NAME_VALUE : push(v, 0);
+                case Reader.ROOT:
+                    at++;
+                    return top < 1 ? 0 : rootOfOrder(stack[top - 1], detail);
+                case Reader.POLYNOMIAL:
+                    return push(null, 0) + rootOfPolynomial(code, size);
+                case Reader.NEGATE:
+                    if (top > 0) {
+                        stack[top - 1].negate();
+                    }
+                    return 0;
+                default:
+                    return operate(word);
+            }
+        }
+
+        private int push(Val v, int number) {
+            if (top < DEEP) {
+                if (v == null) {
+                    stack[top].setFraction(number, 1);
+                } else {
+                    stack[top].copy(v);
+                }
+                top++;
+            }
+            return 0;
+        }
+
+        /** An operation on two numbers; what comes out is in the place of the first one. */
+        private int operate(int word) {
+            if (top < 2) {
+                return 0;
+            }
+            top--;
+            Val x = stack[top - 1];
+            Val y = stack[top];
+            if (word == Reader.ORDER) {
+                x.setFraction(gauge.order(x, y), 1);
+                return 0;
+            }
+            if (word == Reader.DIVIDE && y.isZero()) {
+                return BY_ZERO;
+            }
+            if (x.degree * y.degree > HIGHEST_PRODUCT) {
+                return TOO_HIGH;
+            }
+            if (word == Reader.SUBTRACT) {
+                y.negate();
+            }
+            if (word == Reader.DIVIDE) {
+                y.invert();
+                findAgain(y);
+            }
+            boolean times = word == Reader.MULTIPLY || word == Reader.DIVIDE;
+            if (x.degree == 1 && y.degree == 1) {
+                return joinFractions(x, y, times);
+            }
+            if (times && (x.isZero() || y.isZero())) {
+                x.setFraction(0, 1);
+                return 0;
+            }
+            sums.build(x, y, times, poly);
+            if (x.degree == 1) {
+                return joinFraction(y, x, times);
+            }
+            if (y.degree == 1) {
+                return joinFraction(x, y, times);
+            }
+            gauge.aimAtPair(x, y, times);
+            return factors.prepare(poly) ? TO_SEARCH : NO_VALUE;
+        }
+
+        private void findAgain(Val v) {
+            if (v.degree > 1) {
+                candidate.set(v);
+                isolator.isolate(candidate);
+                v.lieAt(isolator, v.index);
+            }
+        }
+
+        private int joinFractions(Val x, Val y, boolean times) {
+            long a = -(long) x.c[0];
+            long b = x.c[1];
+            long c = -(long) y.c[0];
+            long d = y.c[1];
+            long n = times ? a * c : a * d + c * b;
+            return x.setQuotient(n, b * d) ? 0 : NO_VALUE;
+        }
+
+        /** With a fraction the built polynomial stays irreducible, and the order of its roots is known. */
+        private int joinFraction(Val v, Val fraction, boolean times) {
+            int number = times && fraction.isNegative() ? v.roots - 1 - v.index : v.index;
+            if (!factors.reduceWhole(poly, found) || !poly.strip(found, work)) {
+                return NO_VALUE;
+            }
+            found.index = number;
+            findAgain(found);
+            stack[top - 1].copy(found);
+            return 0;
+        }
+
+        private int rootOfOrder(Val x, int k) {
+            if (k < 2 || k * x.degree > HIGHEST_PRODUCT) {
+                return TOO_HIGH;
+            }
+            boolean even = k % 2 == 0;
+            if (even && x.isNegative()) {
+                return EVEN_BELOW_ZERO;
+            }
+            if (x.isZero()) {
+                return 0;
+            }
+            poly.setStretched(x, k);
+            int positives = x.roots - x.negatives;
+            int number = even ? positives + x.index - x.negatives : x.index;
+            if (!factors.prepare(poly)) {
+                return NO_VALUE;
+            }
+            return takeRoot(number);
+        }
+
+        private int rootOfPolynomial(int[] code, int size) {
+            int number = at < size ? code[at] : 0;
+            int count = at + 1 < size ? code[at + 1] : 0;
+            at += 2;
+            poly.degree = 0;
+            for (int i = 0; i < count && i <= Poly.MOST && at + i < size; i++) {
+                poly.c[i].setLong(code[at + i]);
+                if (code[at + i] != 0) {
+                    poly.degree = i;
+                }
+            }
+            at += count;
+            if (poly.degree == 0) {
+                return NO_ROOT;
+            }
+            if (!factors.prepare(poly)) {
+                return NO_VALUE;
+            }
+            factors.makeSquareFree(poly);
+            return takeRoot(number);
+        }
+
+        private int takeRoot(int number) {
+            isolator.isolate(poly);
+            if (number < 0 || number >= isolator.count) {
+                return NO_ROOT;
+            }
+            Big low = isolator.low[number];
+            int scale = isolator.scale[number];
+            if (!isolator.exact[number]) {
+                gauge.aimAtRoot(low, scale);
+                return TO_SEARCH;
+            }
+            if (scale < 0) {
+                low.shiftUp(-scale);
+            }
+            int down = Math.max(scale, 0);
+            for (int i = 0; i < 64 && down > 0 && !low.isOdd(); i++) {
+                low.shiftDown(1);
+                down--;
+            }
+            return stack[top - 1].setQuotient(low.toLong(), 1L << Math.min(down, 62)) ? 0 : NO_VALUE;
+        }
+
+        /** Goes through the factors until one has the aimed number as a root. */
+        int search() {
+            if (!factors.begin()) {
+                return NO_VALUE;
+            }
+            for (int i = 0; i < 10000 && factors.next(found); i++) {
+                if (!poly.strip(found, work)) {
+                    continue;
+                }
+                factors.remove();
+                candidate.set(found);
+                int verdict = gauge.judge(found, candidate, poly);
+                for (int j = 0; j < ROUNDS && verdict == 0; j++) {
+                    gauge.sharpen();
+                    verdict = gauge.judge(found, candidate, poly);
+                }
+                if (verdict > 0) {
+                    return TO_SETTLE;
+                }
+            }
+            return NO_VALUE;
+        }
+
+        /** Finds which root of the found polynomial it is. */
+        int settle() {
+            if (top < 1) {
+                return NO_VALUE;
+            }
+            if (found.degree == 1) {
+                found.finishFraction();
+            } else {
+                isolator.isolate(candidate);
+                int number = gauge.locate(isolator);
+                for (int j = 0; j < ROUNDS && number < 0; j++) {
+                    gauge.sharpen();
+                    number = gauge.locate(isolator);
+                }
+                found.lieAt(isolator, number);
+            }
+            stack[top - 1].copy(found);
+            return 0;
+        }
+    }
+
+    /**
+     * Builds the polynomial of all sums (or products) of a root of one polynomial and one of another, by sums of
+     * powers: with a and b the highest coefficients, a times the one and b times the other roots have whole sums.
+     */
+    private static final class Sums {
+        private final Big[] left;
+        private final Big[] right;
+        private final Big[] both;
+        private final Big term;
+
+        Sums() {
+            left = new Big[Poly.MOST + 1];
+            right = new Big[Poly.MOST + 1];
+            both = new Big[Poly.MOST + 1];
+            for (int i = 0; i <= Poly.MOST; i++) {
+                left[i] = new Big(Poly.ROOM);
+                right[i] = new Big(Poly.ROOM);
+                both[i] = new Big(Poly.ROOM);
+            }
+            term = new Big(2 * Poly.ROOM);
+        }
+
+        void build(Val x, Val y, boolean times, Poly to) {
+            int n = Math.min(x.degree * y.degree, Poly.MOST);
+            powerSums(x, n, left);
+            powerSums(y, n, right);
+            if (times) {
+                for (int k = 1; k <= n; k++) {
+                    both[k].setProduct(left[k], right[k]);
+                }
+            } else {
+                joinSums(x.c[x.degree], y.c[y.degree], n);
+            }
+            fromPowerSums(n, to);
+            for (int j = 0; j <= n; j++) {
+                unscale(to.c[j], x.c[x.degree], j + y.degree - n, y.c[y.degree], j + x.degree - n);
+            }
+        }
+
+        /** Newton's identities, nested so that only single coefficients multiply. */
+        private void powerSums(Val v, int n, Big[] to) {
+            int m = v.degree;
+            to[0].setLong(m);
+            for (int k = 1; k <= n; k++) {
+                Big sum = to[k];
+                sum.setLong(0);
+                for (int j = Math.min(k, m); j >= 1; j--) {
+                    sum.scale(v.c[m]);
+                    if (j == k) {
+                        sum.addLong((long) k * v.c[m - j]);
+                    } else {
+                        sum.addTimes(to[k - j], v.c[m - j]);
+                    }
+                }
+                sum.negate();
+            }
+        }
+
+        private void joinSums(int a, int b, int n) {
+            for (int k = 1; k <= n; k++) {
+                for (int i = 0; i < k; i++) {
+                    left[k].scale(b);
+                    right[k].scale(a);
+                }
+            }
+            for (int k = 1; k <= n; k++) {
+                both[k].setLong(0);
+                int choices = 1;
+                for (int i = 0; i <= k; i++) {
+                    term.setProduct(left[i], right[k - i]);
+                    both[k].addTimes(term, choices);
+                    choices = choices * (k - i) / (i + 1);
+                }
+            }
+        }
+
+        private void fromPowerSums(int n, Poly to) {
+            to.degree = n;
+            to.c[n].setLong(1);
+            for (int k = 1; k <= n; k++) {
+                Big sum = to.c[n - k];
+                sum.setLong(0);
+                for (int i = 1; i <= k; i++) {
+                    term.setProduct(to.c[n - k + i], both[i]);
+                    sum.addTimes(term, -1);
+                }
+                sum.divide(k);
+            }
+        }
+
+        /** Times a to the i and b to the j, which may be below 0: all is multiplied before anything is divided. */
+        private void unscale(Big v, int a, int i, int b, int j) {
+            for (int k = 0; k < i; k++) {
+                v.scale(a);
+            }
+            for (int k = 0; k < j; k++) {
+                v.scale(b);
+            }
+            for (int k = i; k < 0 && a != 1; k++) {
+                v.divide(a);
+            }
+            for (int k = j; k < 0 && b != 1; k++) {
+                v.divide(b);
+            }
+        }
+    }
+
+    /**
+     * Finds the real roots of a polynomial without multiple roots, in rising order, by halving and Descartes' rule.
+     * One polynomial walks from cell to cell, so that no stack of them is needed: in a cell (k, scale) it is the
+     * given one of (x + k) / 2 to the scale.
+     */
+    private static final class Isolator {
+        private static final int ROOM = 136;
+        private static final int MOST_BITS = 3200;
+        private static final int STEPS = 100000;
+        private static final int NONE = 0;
+        private static final int OPEN = 1;
+        private static final int EXACT = 2;
+        private static final int SPLIT = 3;
+
+        private final Big[] f;
+        private final Big[] g;
+        private final Big cell;
+        private final Big[] low;
+        private final int[] scale;
+        private final boolean[] exact;
+        private int degree;
+        private int first;
+        private int depth;
+        private int count;
+        private int negatives;
+
+        Isolator() {
+            f = new Big[Poly.MOST + 1];
+            g = new Big[Poly.MOST + 1];
+            for (int i = 0; i <= Poly.MOST; i++) {
+                f[i] = new Big(ROOM);
+                g[i] = new Big(ROOM);
+            }
+            cell = new Big(Val.ROOM);
+            low = new Big[Poly.MOST];
+            for (int i = 0; i < Poly.MOST; i++) {
+                low[i] = new Big(Val.ROOM);
+            }
+            scale = new int[Poly.MOST];
+            exact = new boolean[Poly.MOST];
+        }
+
+        void isolate(Poly p) {
+            start(p);
+            boolean more = true;
+            for (int i = 0; i < STEPS && more; i++) {
+                int kind = classify();
+                if (kind == SPLIT && (depth - first + 1) * degree < MOST_BITS) {
+                    split();
+                } else {
+                    if (kind == OPEN || kind == EXACT) {
+                        record(kind == EXACT);
+                    }
+                    more = advance();
+                }
+            }
+        }
+
+        /** The first cell is the one below 0 that is so wide that no root lies beyond it. */
+        private void start(Poly p) {
+            degree = p.degree;
+            int bound = bound(p);
+            for (int i = 0; i <= degree; i++) {
+                f[i].set(p.c[i]);
+                f[i].shiftUp(bound >= 0 ? bound * i : -bound * (degree - i));
+            }
+            for (int i = 0; i < degree; i++) {
+                for (int j = degree - 1; j >= i; j--) {
+                    f[j].addTimes(f[j + 1], -1);
+                }
+            }
+            first = -bound;
+            depth = first;
+            cell.setLong(-1);
+            count = 0;
+            negatives = 0;
+        }
+
+        /** Fujiwara's bound: all roots are nearer to 0 than 2 to it. */
+        private int bound(Poly p) {
+            int lead = p.c[degree].bits();
+            int most = -100000;
+            for (int i = 1; i <= degree; i++) {
+                Big c = p.c[degree - i];
+                if (c.sign != 0) {
+                    most = Math.max(most, -Math.floorDiv(lead - c.bits() - 1, i));
+                }
+            }
+            return most == -100000 ? 0 : most + 1;
+        }
+
+        private int classify() {
+            boolean zero = f[0].sign == 0;
+            int changes = 0;
+            int last = 0;
+            for (int i = 0; i <= degree && changes == 0; i++) {
+                if (f[i].sign != 0 && f[i].sign == -last) {
+                    changes++;
+                }
+                last = f[i].sign != 0 ? f[i].sign : last;
+            }
+            if (changes != 0) {
+                changes = changesInside();
+            }
+            if (changes == 0) {
+                return zero ? EXACT : NONE;
+            }
+            return changes == 1 && !zero ? OPEN : SPLIT;
+        }
+
+        /** How often the signs change in (1 + x)^n f(1 / (1 + x)): 0, 1, or 2 for more. */
+        private int changesInside() {
+            for (int i = 0; i <= degree; i++) {
+                g[i].set(f[degree - i]);
+            }
+            int changes = 0;
+            int last = 0;
+            for (int i = 0; i <= degree && changes < 2; i++) {
+                for (int j = degree - 1; j >= i; j--) {
+                    g[j].addTimes(g[j + 1], 1);
+                }
+                if (g[i].sign != 0 && g[i].sign == -last) {
+                    changes++;
+                }
+                last = g[i].sign != 0 ? g[i].sign : last;
+            }
+            return changes;
+        }
+
+        private void split() {
+            for (int i = 0; i < degree; i++) {
+                f[i].shiftUp(degree - i);
+            }
+            cell.shiftUp(1);
+            depth++;
+        }
+
+        private void record(boolean isExact) {
+            if (count >= Poly.MOST) {
+                return;
+            }
+            low[count].set(cell);
+            scale[count] = depth;
+            exact[count] = isExact;
+            count++;
+            if (cell.sign < 0) {
+                negatives++;
+            }
+        }
+
+        /** To the next cell, the widest one that begins there; false behind the last one. */
+        private boolean advance() {
+            for (int i = 0; i < degree; i++) {
+                for (int j = degree - 1; j >= i; j--) {
+                    f[j].addTimes(f[j + 1], 1);
+                }
+            }
+            cell.addLong(1);
+            while (depth > first && !cell.isOdd()) {
+                for (int i = 0; i < degree; i++) {
+                    f[i].shiftDown(degree - i);
+                }
+                cell.shiftDown(1);
+                depth--;
+            }
+            return depth > first || cell.sign <= 0;
+        }
+    }
+
+    /** Binary digits of values, and the tests that lean on them. */
+    private static final class Gauge {
+        private static final int ROOM = 140;
+        private static final int FIRST_BITS = 64;
+        private static final int MOST_BITS = 640;
+        private static final int WIDEST = 28;
+        private static final int STEPS = 5000;
+
+        private final Big left;
+        private final Big right;
+        private final Big here;
+        private final Big beside;
+        private final Big at;
+        private final Big point;
+        private final Big term;
+        private final Big spare;
+        private final Big mid;
+        private final Big one;
+        private final Big other;
+        private Val x;
+        private Val y;
+        private boolean times;
+        private boolean fixed;
+        private int bits;
+        private int spread;
+
+        Gauge() {
+            left = new Big(ROOM);
+            right = new Big(ROOM);
+            here = new Big(ROOM);
+            beside = new Big(ROOM);
+            at = new Big(ROOM);
+            point = new Big(ROOM);
+            term = new Big(ROOM);
+            spare = new Big(ROOM);
+            mid = new Big(ROOM);
+            one = new Big(ROOM);
+            other = new Big(ROOM);
+        }
+
+        /** The greatest whole number that is not above the value times 2 to the wanted bits. */
+        private void approximate(Val v, int wanted, Big to) {
+            if (v.degree == 1) {
+                to.setLong(-(long) v.c[0]);
+                to.shiftUp(wanted);
+                to.divideDown(v.c[1]);
+                return;
+            }
+            int scale = v.scale;
+            to.set(v.low);
+            if (scale >= wanted) {
+                to.shiftDown(scale - wanted);
+                return;
+            }
+            at.set(to);
+            evaluate(v, at, scale, left);
+            at.addLong(1);
+            evaluate(v, at, scale, right);
+            int step = 1;
+            for (int i = 0; i < STEPS && scale < wanted; i++) {
+                int width = Math.min(step, wanted - scale);
+                if (narrow(v, to, scale, width)) {
+                    scale += width;
+                    step = Math.min(2 * step, WIDEST);
+                } else {
+                    step = Math.max(step / 2, 1);
+                }
+            }
+        }
+
+        /**
+         * Cuts the cell that holds the root into 2 to the width parts and looks whether the root is in the one where
+         * a straight line between the ends would have it, or beside; with two parts it always finds it.
+         */
+        private boolean narrow(Val v, Big to, int scale, int width) {
+            long guess = 1;
+            if (width > 1) {
+                int from = Math.max(0, Math.max(left.bits(), right.bits()) - 34);
+                long a = left.top(from);
+                long all = Math.max(1, a + right.top(from));
+                guess = Math.min((a << width) / all, (1L << width) - 1);
+            }
+            at.set(to);
+            at.shiftUp(width);
+            at.addLong(guess);
+            evaluate(v, at, scale + width, here);
+            boolean before = here.sign == left.sign;
+            at.addLong(before ? 1 : -1);
+            evaluate(v, at, scale + width, beside);
+            if ((beside.sign == left.sign) == before) {
+                return false;
+            }
+            if (before) {
+                at.addLong(-1);
+            }
+            to.set(at);
+            left.set(before ? here : beside);
+            right.set(before ? beside : here);
+            return true;
+        }
+
+        /** The polynomial's value at k over 2 to the scale, times a power of 2 that hangs on the scale alone. */
+        private void evaluate(Val v, Big k, int scale, Big to) {
+            point.set(k);
+            point.shiftUp(-scale);
+            to.setLong(v.c[v.degree]);
+            for (int i = v.degree - 1; i >= 0; i--) {
+                spare.setProduct(to, point);
+                term.setLong(v.c[i]);
+                term.shiftUp(scale * (v.degree - i));
+                spare.addTimes(term, 1);
+                to.set(spare);
+            }
+        }
+
+        int order(Val v, Val w) {
+            if (v.hasPolynomialOf(w)) {
+                return Integer.compare(v.index, w.index);
+            }
+            int answer = 0;
+            for (int b = FIRST_BITS / 2; b <= MOST_BITS && answer == 0; b = b < 512 ? 2 * b : b + 128) {
+                approximate(v, b, one);
+                approximate(w, b, other);
+                answer = one.order(other);
+            }
+            return answer;
+        }
+
+        /** The greatest whole number that is not above the value times 10 to the n. */
+        Big wholePart(Val v, int n) {
+            if (v.degree == 1) {
+                one.setLong(-(long) v.c[0]);
+                timesTen(one, n);
+                one.divideDown(v.c[1]);
+                return one;
+            }
+            boolean same = false;
+            for (int b = 4 * n + 32; b <= MOST_BITS && !same; b += 96) {
+                approximate(v, b, one);
+                other.set(one);
+                other.addLong(1);
+                timesTen(one, n);
+                timesTen(other, n);
+                other.addLong(-1);
+                one.shiftDown(b);
+                other.shiftDown(b);
+                same = one.order(other) == 0;
+            }
+            return one;
+        }
+
+        private void timesTen(Big v, int n) {
+            for (int i = 0; i < n; i++) {
+                v.scale(10);
+            }
+        }
+
+        void aimAtPair(Val first, Val second, boolean product) {
+            x = first;
+            y = second;
+            times = product;
+            fixed = false;
+            bits = 0;
+        }
+
+        /** At the only root of the polynomial at hand between low and low + 1, over 2 to the scale. */
+        void aimAtRoot(Big low, int scale) {
+            fixed = true;
+            mid.set(low);
+            bits = scale;
+            spread = 0;
+        }
+
+        /** The number times 2 to the bits is not further from mid than 2 to the spread. */
+        void sharpen() {
+            if (fixed || x == null || y == null) {
+                return;
+            }
+            bits = bits == 0 ? FIRST_BITS : Math.min(2 * bits, MOST_BITS);
+            approximate(x, bits, one);
+            approximate(y, bits, other);
+            if (times) {
+                mid.setProduct(one, other);
+                mid.shiftDown(bits);
+                spread = 3 + Math.max(0, Math.max(one.bits(), other.bits()) - bits);
+            } else {
+                mid.set(one);
+                mid.addTimes(other, 1);
+                spread = 1;
+            }
+        }
+
+        /** Whether the aimed number is a root of the candidate: 1, -1; 0 if the digits do not tell yet. */
+        int judge(Val found, Poly candidate, Poly rest) {
+            if (rest.degree == 0) {
+                return 1;
+            }
+            if (fixed) {
+                evaluate(found, mid, bits, left);
+                at.set(mid);
+                at.addLong(1);
+                evaluate(found, at, bits, right);
+                return left.sign * right.sign < 0 ? 1 : -1;
+            }
+            if (bits == 0) {
+                return 0;
+            }
+            if (misses(candidate)) {
+                return -1;
+            }
+            return misses(rest) ? 1 : 0;
+        }
+
+        /**
+         * Whether the polynomial is certainly not 0 at the aimed number. With reach the bits of what the number is
+         * below (1 at least), Horner's scheme is off by less than n (n + 1) 2^(reach (n - 1) + spread) times the
+         * greatest coefficient, and n (n + 1) is below 2^8.
+         */
+        private boolean misses(Poly p) {
+            int n = p.degree;
+            int reach = Math.max(0, Math.max(mid.bits(), spread) - bits + 1);
+            spare.set(p.c[n]);
+            spare.shiftUp(bits);
+            for (int i = n - 1; i >= 0; i--) {
+                term.setProduct(spare, mid);
+                term.shiftDown(bits);
+                spare.set(p.c[i]);
+                spare.shiftUp(bits);
+                spare.addTimes(term, 1);
+            }
+            return spare.bits() > reach * (n - 1) + spread + p.mostBits() + 8;
+        }
+
+        /** Which of the found roots is the aimed number; -1 if the digits do not tell yet. */
+        int locate(Isolator found) {
+            int number = -1;
+            int hits = 0;
+            for (int i = 0; i < found.count; i++) {
+                if (touches(found.low[i], found.scale[i])) {
+                    hits++;
+                    number = i;
+                }
+            }
+            return hits == 1 ? number : -1;
+        }
+
+        private boolean touches(Big low, int scale) {
+            if (!fixed && bits == 0) {
+                return false;
+            }
+            left.set(mid);
+            right.set(mid);
+            if (fixed) {
+                right.addLong(1);
+            } else {
+                term.setLong(1);
+                term.shiftUp(spread);
+                left.addTimes(term, -1);
+                right.addTimes(term, 1);
+            }
+            left.shiftUp(scale - bits);
+            right.shiftUp(scale - bits);
+            here.set(low);
+            beside.set(low);
+            beside.addLong(1);
+            here.shiftUp(bits - scale);
+            beside.shiftUp(bits - scale);
+            return right.order(here) > 0 && left.order(beside) < 0;
+        }
+    }
+
+    /** Polynomials modulo a prime, in rows with the lowest coefficient first. */
+    private static final class Field {
+        private static final int ROOM = 28;
+        private int p;
+        private final int[] product;
+        private final int[] power;
+        private int[] common;
+        private int[] spareCommon;
+        private int[] cofactor;
+        private int[] spareCofactor;
+
+        Field() {
+            product = new int[ROOM];
+            power = new int[ROOM];
+            common = new int[ROOM];
+            spareCommon = new int[ROOM];
+            cofactor = new int[ROOM];
+            spareCofactor = new int[ROOM];
+        }
+
+        int inverse(int a) {
+            int result = 1;
+            int square = a;
+            for (int e = p - 2; e > 0; e >>= 1) {
+                if ((e & 1) != 0) {
+                    result = result * square % p;
+                }
+                square = square * square % p;
+            }
+            return result;
+        }
+
+        /** a times b modulo h, whose degree is d and highest coefficient 1; the two are shorter than h. */
+        void multiply(int[] a, int[] b, int[] h, int d, int[] to) {
+            for (int i = 0; i < 2 * d; i++) {
+                product[i] = 0;
+            }
+            for (int i = 0; i < d; i++) {
+                for (int j = 0; j < d; j++) {
+                    product[i + j] += a[i] * b[j];
+                }
+            }
+            reduce(product, 2 * d - 2, h, d);
+            System.arraycopy(product, 0, to, 0, d);
+        }
+
+        /** a, with coefficients of any size, modulo h in its own row. */
+        void reduce(int[] a, int n, int[] h, int d) {
+            for (int i = n; i >= d; i--) {
+                int q = Math.floorMod(a[i], p);
+                a[i] = 0;
+                for (int j = 0; j < d; j++) {
+                    a[i - d + j] -= q * h[j];
+                }
+            }
+            for (int i = 0; i < d; i++) {
+                a[i] = Math.floorMod(a[i], p);
+            }
+        }
+
+        void raise(int[] a, int e, int[] h, int d, int[] to) {
+            for (int i = 0; i < d; i++) {
+                power[i] = a[i];
+                to[i] = a[i];
+            }
+            for (int bit = Integer.highestOneBit(e) >> 1; bit > 0; bit >>= 1) {
+                multiply(to, to, h, d, to);
+                if ((e & bit) != 0) {
+                    multiply(to, power, h, d, to);
+                }
+            }
+        }
+
+        /** a over b, both with the highest coefficient 1, when it goes. */
+        void divide(int[] a, int n, int[] b, int d, int[] to) {
+            System.arraycopy(a, 0, product, 0, n + 1);
+            for (int i = n; i >= d; i--) {
+                int q = Math.floorMod(product[i], p);
+                to[i - d] = q;
+                for (int j = 0; j < d; j++) {
+                    product[i - d + j] -= q * b[j];
+                }
+            }
+        }
+
+        /**
+         * The degree of the greatest common divisor, which is left in common with the highest coefficient 1; cofactor
+         * times b is the same modulo a. -1 when both are 0.
+         */
+        int euclid(int[] a, int n, int[] b, int m) {
+            for (int i = 0; i < ROOM; i++) {
+                common[i] = i <= n ? a[i] : 0;
+                spareCommon[i] = i <= m ? b[i] : 0;
+                cofactor[i] = 0;
+                spareCofactor[i] = i == 0 ? 1 : 0;
+            }
+            int high = degreeOf(common, n);
+            int less = degreeOf(spareCommon, m);
+            for (int i = 0; i < 100 && less >= 0; i++) {
+                if (high >= less) {
+                    int q = common[high] * inverse(spareCommon[less]) % p;
+                    subtractShifted(common, spareCommon, q, high - less);
+                    subtractShifted(cofactor, spareCofactor, q, high - less);
+                    high = degreeOf(common, high);
+                }
+                if (high < less) {
+                    swapRows();
+                    int kept = high;
+                    high = less;
+                    less = kept;
+                }
+            }
+            if (high >= 0) {
+                int f = inverse(common[high]);
+                for (int i = 0; i < ROOM; i++) {
+                    common[i] = common[i] * f % p;
+                    cofactor[i] = cofactor[i] * f % p;
+                }
+            }
+            return high;
+        }
+
+        private void swapRows() {
+            int[] kept = common;
+            common = spareCommon;
+            spareCommon = kept;
+            kept = cofactor;
+            cofactor = spareCofactor;
+            spareCofactor = kept;
+        }
+
+        private void subtractShifted(int[] from, int[] what, int q, int shift) {
+            for (int i = 0; i + shift < ROOM; i++) {
+                from[i + shift] = Math.floorMod(from[i + shift] - q * what[i], p);
+            }
+        }
+
+        private int degreeOf(int[] a, int most) {
+            int d = most;
+            while (d >= 0 && a[d] == 0) {
+                d--;
+            }
+            return d;
+        }
+    }
+
+    /**
+     * Polynomials modulo a prime to the 6th: every coefficient is 6 digits in base p, the lowest first. The power is
+     * above 2 * (2^31 - 1)^2, so that a fraction of two coefficients of a value is told by it, and below 2^64.
+     */
+    private static final class Padic {
+        private static final int DIGITS = 6;
+        private static final int ROOM = (Poly.MOST + 1) * DIGITS;
+        private int p;
+        private long modulus;
+        private final Big rest;
+        private int[] a;
+        private int[] b;
+        private int freeDegree;
+
+        Padic() {
+            rest = new Big(Poly.ROOM);
+            a = new int[ROOM];
+            b = new int[ROOM];
+        }
+
+        void setPrime(int prime) {
+            p = prime;
+            modulus = 1;
+            for (int i = 0; i < DIGITS; i++) {
+                modulus *= p;
+            }
+        }
+
+        void load(Big v, int[] to, int at) {
+            rest.set(v);
+            int borrow = 0;
+            for (int i = 0; i < DIGITS; i++) {
+                int digit = rest.sign == 0 ? 0 : rest.divide(p);
+                if (v.sign < 0) {
+                    digit = -digit - borrow;
+                    borrow = digit < 0 ? 1 : 0;
+                    digit += borrow * p;
+                }
+                to[at + i] = digit;
+            }
+        }
+
+        /** x over y in the place of x; inverse is that of y's lowest digit. */
+        private void divide(int[] x, int at, int[] y, int from, int inverse) {
+            for (int i = 0; i < DIGITS; i++) {
+                int q = Math.floorMod(x[at + i], p) * inverse % p;
+                for (int j = 1; i + j < DIGITS; j++) {
+                    x[at + i + j] -= q * y[from + j];
+                }
+                if (i + 1 < DIGITS) {
+                    x[at + i + 1] += Math.floorDiv(x[at + i] - q * y[from], p);
+                }
+                x[at + i] = q;
+            }
+        }
+
+        /** Divides all by the highest coefficient, whose lowest digit is not 0. */
+        void makeMonic(int[] x, int n, int inverse) {
+            for (int j = 0; j < n; j++) {
+                divide(x, j * DIGITS, x, n * DIGITS, inverse);
+            }
+            for (int i = 0; i < DIGITS; i++) {
+                x[n * DIGITS + i] = i == 0 ? 1 : 0;
+            }
+        }
+
+        /** x less y times z. */
+        private void subtractProduct(int[] x, int at, int[] y, int yAt, int[] z, int zAt) {
+            int carry = 0;
+            for (int i = 0; i < DIGITS; i++) {
+                int t = x[at + i] + carry;
+                for (int j = 0; j <= i; j++) {
+                    t -= y[yAt + j] * z[zAt + i - j];
+                }
+                carry = Math.floorDiv(t, p);
+                x[at + i] = t - carry * p;
+            }
+        }
+
+        /** x modulo y, whose highest coefficient is 1; from y's degree on the quotient is left. */
+        private void divideBy(int[] x, int n, int[] y, int d) {
+            for (int i = n; i >= d; i--) {
+                for (int j = 0; j < d; j++) {
+                    subtractProduct(x, (i - d + j) * DIGITS, x, i * DIGITS, y, j * DIGITS);
+                }
+            }
+        }
+
+        /** The product with so many digits of each coefficient. */
+        void multiply(int[] x, int n, int[] y, int m, int[] to, int digits) {
+            for (int i = 0; i < (n + m + 1) * DIGITS; i++) {
+                to[i] = 0;
+            }
+            for (int i = 0; i <= n; i++) {
+                for (int j = 0; j <= m; j++) {
+                    addProduct(to, (i + j) * DIGITS, x, i * DIGITS, y, j * DIGITS, digits);
+                }
+            }
+            for (int k = 0; k <= n + m; k++) {
+                int carry = 0;
+                for (int i = k * DIGITS; i < k * DIGITS + digits; i++) {
+                    int t = to[i] + carry;
+                    carry = t / p;
+                    to[i] = t - carry * p;
+                }
+            }
+        }
+
+        /** Without carries: 13 times 6 products of digits fit. */
+        private void addProduct(int[] to, int at, int[] x, int xAt, int[] y, int yAt, int digits) {
+            for (int i = 0; i < digits; i++) {
+                int f = x[xAt + i];
+                if (f != 0) {
+                    for (int j = 0; i + j < digits; j++) {
+                        to[at + i + j] += f * y[yAt + j];
+                    }
+                }
+            }
+        }
+
+        /**
+         * x over its common divisor with its derivative; false when the prime does not show that divisor. The rows
+         * of Euclid are those of the rational numbers as long as no highest coefficient is divisible by the prime.
+         */
+        boolean squareFree(int[] x, int n, int[] to, Field field) {
+            System.arraycopy(x, 0, a, 0, (n + 1) * DIGITS);
+            for (int i = 0; i < n; i++) {
+                int carry = 0;
+                for (int k = 0; k < DIGITS; k++) {
+                    int t = x[(i + 1) * DIGITS + k] * (i + 1) + carry;
+                    carry = t / p;
+                    b[i * DIGITS + k] = t - carry * p;
+                }
+            }
+            int high = n;
+            int less = n - 1;
+            for (int round = 0; round <= Poly.MOST && less >= 0; round++) {
+                if (b[less * DIGITS] == 0) {
+                    return false;
+                }
+                makeMonic(b, less, field.inverse(b[less * DIGITS]));
+                divideBy(a, high, b, less);
+                high = less;
+                int[] kept = a;
+                a = b;
+                b = kept;
+                less = degreeOf(b, high - 1);
+            }
+            System.arraycopy(x, 0, to, 0, (n + 1) * DIGITS);
+            divideBy(to, n, a, high);
+            freeDegree = n - high;
+            for (int i = 0; i < (freeDegree + 1) * DIGITS; i++) {
+                to[i] = to[i + high * DIGITS];
+            }
+            return true;
+        }
+
+        private int degreeOf(int[] x, int most) {
+            for (int d = most; d >= 0; d--) {
+                for (int i = 0; i < DIGITS; i++) {
+                    if (x[d * DIGITS + i] != 0) {
+                        return d;
+                    }
+                }
+            }
+            return -1;
+        }
+
+        /** A coefficient times a factor below 2^31, the residue that is nearest to 0. */
+        long residue(int[] x, int at, int factor) {
+            long carry = 0;
+            long sum = 0;
+            long power = 1;
+            for (int i = 0; i < DIGITS; i++) {
+                long t = (long) x[at + i] * factor + carry;
+                carry = Math.floorDiv(t, (long) p);
+                sum += (t - carry * p) * power;
+                power *= p;
+            }
+            return sum < 0 || sum > modulus >>> 1 ? sum - modulus : sum;
+        }
+
+        /**
+         * The denominator of the fraction with both parts at most 2^31 - 1 that has this residue, 0 when there is
+         * none. The modulus takes all 64 bits, so that the first division is done by its half.
+         */
+        int denominator(long residue) {
+            long less = residue < 0 ? -residue : residue;
+            if (less <= LIMIT) {
+                return 1;
+            }
+            long half = modulus >>> 1;
+            long q = 2 * (half / less);
+            long rest = half % less;
+            if (rest >= less - rest) {
+                rest -= less - rest;
+                q++;
+            } else {
+                rest += rest;
+            }
+            rest++;
+            if (rest == less) {
+                rest = 0;
+                q++;
+            }
+            long high = less;
+            long before = 1;
+            long now = q;
+            for (int i = 0; i < 100 && rest > LIMIT; i++) {
+                q = high / rest;
+                long kept = high % rest;
+                high = rest;
+                rest = kept;
+                kept = before + q * now;
+                before = now;
+                now = kept;
+            }
+            return now <= LIMIT ? (int) now : 0;
+        }
+    }
+
+    /** Searches the factors of a polynomial that may belong to a value: Berlekamp's way, and Hensel's lifting. */
+    private static final class Factors {
+        /** All primes whose 6th power is between 2^63 and 2^64. */
+        private static final int[] PRIMES = {1451, 1453, 1459, 1471, 1481, 1483, 1487, 1489, 1493, 1499, 1511, 1523,
+            1531, 1543, 1549, 1553, 1559, 1567, 1571, 1579, 1583, 1597, 1601, 1607, 1609, 1613, 1619, 1621};
+        private static final int TRIES = 3;
+        private static final int ROUNDS = 300;
+
+        private final Field field;
+        private final Padic padic;
+        private final int[] whole;
+        private final int[] free;
+        private final int[] base;
+        private final int[] row;
+        private final int[] frobenius;
+        private final int[] error;
+        private final int[][] matrix;
+        private final int[][] basis;
+        private final int[][] pieces;
+        private final int[][] inverses;
+        private final int[][] lifts;
+        private final int[] sizes;
+        private final int[] product;
+        private final int[] kept;
+        private int degree;
+        private int parts;
+        private int alive;
+        private int mask;
+
+        Factors() {
+            field = new Field();
+            padic = new Padic();
+            whole = new int[Padic.ROOM];
+            free = new int[Padic.ROOM];
+            base = new int[Field.ROOM];
+            row = new int[Field.ROOM];
+            frobenius = new int[Field.ROOM];
+            error = new int[Field.ROOM];
+            matrix = new int[Poly.MOST][Poly.MOST];
+            basis = new int[Poly.MOST][Poly.MOST];
+            pieces = new int[Poly.MOST][Poly.MOST + 1];
+            inverses = new int[Poly.MOST][Poly.MOST + 1];
+            lifts = new int[Poly.MOST][Padic.ROOM];
+            sizes = new int[Poly.MOST];
+            product = new int[Padic.ROOM];
+            kept = new int[Padic.ROOM];
+        }
+
+        /** Takes the prime of a few that leaves the fewest factors; false when none serves. */
+        boolean prepare(Poly r) {
+            int best = 0;
+            int bestDegree = 0;
+            int bestParts = 0;
+            int tries = 0;
+            boolean few = false;
+            for (int i = 0; i < PRIMES.length && tries < TRIES && !few; i++) {
+                if (load(r, PRIMES[i])) {
+                    tries++;
+                    countParts();
+                    if (degree > bestDegree || degree == bestDegree && parts < bestParts) {
+                        best = PRIMES[i];
+                        bestDegree = degree;
+                        bestParts = parts;
+                    }
+                    few = parts <= 2;
+                }
+            }
+            if (best == 0) {
+                return false;
+            }
+            if (best != field.p) {
+                load(r, best);
+                countParts();
+            }
+            return true;
+        }
+
+        private boolean loadMonic(Poly r, int prime) {
+            field.p = prime;
+            padic.setPrime(prime);
+            for (int j = 0; j <= r.degree; j++) {
+                padic.load(r.c[j], whole, j * Padic.DIGITS);
+            }
+            int lead = whole[r.degree * Padic.DIGITS];
+            if (lead == 0) {
+                return false;
+            }
+            padic.makeMonic(whole, r.degree, field.inverse(lead));
+            return true;
+        }
+
+        private boolean load(Poly r, int prime) {
+            if (!loadMonic(r, prime)) {
+                return false;
+            }
+            int n = r.degree;
+            for (int j = 0; j <= n; j++) {
+                base[j] = whole[j * Padic.DIGITS];
+                if (j > 0) {
+                    row[j - 1] = base[j] * j % prime;
+                }
+            }
+            degree = n;
+            if (field.euclid(base, n, row, n - 1) == 0) {
+                System.arraycopy(whole, 0, free, 0, Padic.ROOM);
+                return true;
+            }
+            if (!padic.squareFree(whole, n, free, field)) {
+                return false;
+            }
+            degree = padic.freeDegree;
+            for (int j = 0; j <= degree; j++) {
+                base[j] = free[j * Padic.DIGITS];
+            }
+            return true;
+        }
+
+        /** Leaves each multiple root once. The factor that was taken out leaves coefficients far below 2^63. */
+        void makeSquareFree(Poly r) {
+            if (degree == r.degree) {
+                return;
+            }
+            int lead = (int) r.c[r.degree].toLong();
+            int sign = lead < 0 ? -1 : 1;
+            for (int j = 0; j <= degree; j++) {
+                r.c[j].setLong(sign * padic.residue(free, j * Padic.DIGITS, sign * lead));
+            }
+            r.degree = degree;
+        }
+
+        /** Berlekamp: the polynomials v with v to the p the same as v; there are as many parts as their dimension. */
+        private void countParts() {
+            for (int i = 0; i < degree; i++) {
+                row[i] = i == 1 ? 1 : 0;
+            }
+            if (degree == 1) {
+                row[0] = Math.floorMod(-base[0], field.p);
+            }
+            field.raise(row, field.p, base, degree, frobenius);
+            for (int i = 0; i < degree; i++) {
+                row[i] = i == 0 ? 1 : 0;
+            }
+            for (int i = 0; i < degree; i++) {
+                for (int j = 0; j < degree; j++) {
+                    matrix[j][i] = i == j ? Math.floorMod(row[j] - 1, field.p) : row[j];
+                }
+                field.multiply(row, frobenius, base, degree, row);
+            }
+            solve();
+        }
+
+        /** The null space of the matrix. */
+        private void solve() {
+            int rank = 0;
+            parts = 0;
+            for (int col = 0; col < degree; col++) {
+                int pivot = rank;
+                while (pivot < degree && matrix[pivot][col] == 0) {
+                    pivot++;
+                }
+                if (pivot == degree) {
+                    error[parts] = col;
+                    parts++;
+                } else {
+                    eliminate(pivot, rank, col);
+                    sizes[rank] = col;
+                    rank++;
+                }
+            }
+            for (int k = 0; k < parts; k++) {
+                for (int i = 0; i < degree; i++) {
+                    basis[k][i] = i == error[k] ? 1 : 0;
+                }
+                for (int i = 0; i < rank; i++) {
+                    basis[k][sizes[i]] = Math.floorMod(-matrix[i][error[k]], field.p);
+                }
+            }
+        }
+
+        private void eliminate(int pivot, int rank, int col) {
+            int f = field.inverse(matrix[pivot][col]);
+            for (int j = 0; j < degree; j++) {
+                int v = matrix[pivot][j] * f % field.p;
+                matrix[pivot][j] = matrix[rank][j];
+                matrix[rank][j] = v;
+            }
+            for (int i = 0; i < degree; i++) {
+                int q = matrix[i][col];
+                if (i != rank && q != 0) {
+                    for (int j = 0; j < degree; j++) {
+                        matrix[i][j] = Math.floorMod(matrix[i][j] - q * matrix[rank][j], field.p);
+                    }
+                }
+            }
+        }
+
+        /** Splits and lifts; false when no factor can have a degree that a value has. */
+        boolean begin() {
+            if (parts == 1 && degree > HIGHEST) {
+                return false;
+            }
+            System.arraycopy(base, 0, pieces[0], 0, degree + 1);
+            sizes[0] = degree;
+            split();
+            if (parts == 1) {
+                System.arraycopy(free, 0, lifts[0], 0, Padic.ROOM);
+            } else {
+                lift();
+            }
+            alive = (1 << parts) - 1;
+            mask = 0;
+            return true;
+        }
+
+        /** Mixes of the basis with an own row of mixed numbers, the same in every run. */
+        private void split() {
+            int count = 1;
+            int seed = 12345;
+            for (int round = 0; round < ROUNDS && count < parts; round++) {
+                for (int i = 0; i < degree; i++) {
+                    frobenius[i] = 0;
+                }
+                for (int k = 0; k < parts; k++) {
+                    seed = seed * 1103515245 + 12345;
+                    int f = (seed >>> 8) % field.p;
+                    for (int i = 0; i < degree; i++) {
+                        frobenius[i] = (frobenius[i] + f * basis[k][i]) % field.p;
+                    }
+                }
+                int had = count;
+                for (int i = 0; i < had && count < parts; i++) {
+                    if (splits(i, count)) {
+                        count++;
+                    }
+                }
+            }
+            parts = count;
+        }
+
+        private boolean splits(int i, int free) {
+            int d = sizes[i];
+            if (d < 2 || free >= Poly.MOST) {
+                return false;
+            }
+            int[] piece = pieces[i];
+            System.arraycopy(frobenius, 0, row, 0, degree);
+            field.reduce(row, degree - 1, piece, d);
+            field.raise(row, (field.p - 1) / 2, piece, d, error);
+            error[0] = Math.floorMod(error[0] - 1, field.p);
+            int g = field.euclid(piece, d, error, d - 1);
+            if (g < 1 || g >= d) {
+                return false;
+            }
+            System.arraycopy(field.common, 0, row, 0, g + 1);
+            field.divide(piece, d, row, g, pieces[free]);
+            sizes[free] = d - g;
+            System.arraycopy(row, 0, piece, 0, g + 1);
+            sizes[i] = g;
+            return true;
+        }
+
+        /** Hensel: one more digit of all parts in each round. */
+        private void lift() {
+            for (int i = 0; i < parts; i++) {
+                int d = sizes[i];
+                field.divide(base, degree, pieces[i], d, row);
+                int rest = degree - d;
+                field.reduce(row, rest, pieces[i], d);
+                field.euclid(pieces[i], d, row, Math.min(rest, d - 1));
+                System.arraycopy(field.cofactor, 0, inverses[i], 0, d);
+                for (int j = 0; j < Padic.ROOM; j++) {
+                    lifts[i][j] = 0;
+                }
+                for (int j = 0; j <= d; j++) {
+                    lifts[i][j * Padic.DIGITS] = pieces[i][j];
+                }
+            }
+            for (int digit = 1; digit < Padic.DIGITS; digit++) {
+                multiplyParts((1 << parts) - 1, digit + 1);
+                for (int j = 0; j < degree; j++) {
+                    int at = j * Padic.DIGITS + digit;
+                    error[j] = Math.floorMod(free[at] - product[at], field.p);
+                }
+                for (int i = 0; i < parts; i++) {
+                    correct(i, digit);
+                }
+            }
+        }
+
+        private void correct(int i, int digit) {
+            int d = sizes[i];
+            System.arraycopy(error, 0, row, 0, degree);
+            field.reduce(row, degree - 1, pieces[i], d);
+            field.multiply(row, inverses[i], pieces[i], d, row);
+            for (int j = 0; j < d; j++) {
+                lifts[i][j * Padic.DIGITS + digit] = row[j];
+            }
+        }
+
+        /** The degree of the product of these parts, which is left in product. */
+        private int multiplyParts(int which, int digits) {
+            int d = 0;
+            boolean first = true;
+            for (int i = 0; i < parts; i++) {
+                if ((which >> i & 1) != 0) {
+                    if (first) {
+                        System.arraycopy(lifts[i], 0, product, 0, Padic.ROOM);
+                    } else {
+                        System.arraycopy(product, 0, kept, 0, (d + 1) * Padic.DIGITS);
+                        padic.multiply(kept, d, lifts[i], sizes[i], product, digits);
+                    }
+                    first = false;
+                    d += sizes[i];
+                }
+            }
+            return d;
+        }
+
+        /**
+         * The next product of parts that may be a value's polynomial, the ones of fewer parts first, so that what
+         * divides has no divisor itself.
+         */
+        boolean next(Val to) {
+            int all = 1 << parts;
+            int few = Math.max(1, Integer.bitCount(mask));
+            for (int count = few; count <= HIGHEST && count <= parts; count++) {
+                for (int m = count == few ? mask + 1 : 1; m < all; m++) {
+                    if (Integer.bitCount(m) == count && (m & ~alive) == 0 && degreeOf(m) <= HIGHEST) {
+                        int d = multiplyParts(m, Padic.DIGITS);
+                        if (reconstruct(product, d, to)) {
+                            mask = m;
+                            return true;
+                        }
+                    }
+                }
+            }
+            return false;
+        }
+
+        void remove() {
+            alive &= ~mask;
+        }
+
+        private int degreeOf(int which) {
+            int d = 0;
+            for (int i = 0; i < parts; i++) {
+                d += (which >> i & 1) != 0 ? sizes[i] : 0;
+            }
+            return d;
+        }
+
+        /** The polynomial without content that the residues of one with highest coefficient 1 belong to. */
+        private boolean reconstruct(int[] x, int d, Val to) {
+            int lead = 1;
+            for (int j = d - 1; j >= 0; j--) {
+                int q = padic.denominator(padic.residue(x, j * Padic.DIGITS, lead));
+                if (q == 0 || (long) q * lead > LIMIT) {
+                    return false;
+                }
+                lead *= q;
+            }
+            for (int j = 0; j < d; j++) {
+                long c = padic.residue(x, j * Padic.DIGITS, lead);
+                if (c > LIMIT || c < -LIMIT) {
+                    return false;
+                }
+                to.c[j] = (int) c;
+            }
+            to.c[d] = lead;
+            to.degree = d;
+            return true;
+        }
+
+        /** For a polynomial that is known to be irreducible: the value's polynomial that it is a multiple of. */
+        boolean reduceWhole(Poly r, Val to) {
+            if (r.degree > HIGHEST) {
+                return false;
+            }
+            for (int i = 0; i < PRIMES.length; i++) {
+                if (loadMonic(r, PRIMES[i])) {
+                    return reconstruct(whole, r.degree, to);
+                }
+            }
+            return false;
+        }
+    }
+}
