@@ -12,12 +12,13 @@ public final class RootAlgebra {
     private static final int IT = 16;
     private static final int TAPE = 400;
     private static final int TEXT = 128;
+    private static final int BILLION = 1000000000;
     private static final int MOST_PLACES = 30;
     private static final int HIGHEST = 6;
     private static final int LIMIT = 2147483647;
 
     private static final int NO_LINE = -1;
-    private static final int NO_NAME_VALUE = -2;
+    private static final int NAME_WITHOUT_VALUE = -2;
     private static final int NO_VALUE = -3;
     private static final int TOO_HIGH = -4;
     private static final int BY_ZERO = -5;
@@ -25,23 +26,28 @@ public final class RootAlgebra {
     private static final int NO_ROOT = -7;
 
     private final byte[] tape;
-    private int fed;
-    private final Text text;
-    private final Val[] values;
+    private final byte[] text;
+    private final byte[] digits;
+    private final Big rest;
+    private final Value[] values;
     private final Reader reader;
     private final Desk desk;
+    private int fed;
+    private int written;
     private int place;
     private int done;
 
     public RootAlgebra() {
         tape = new byte[TAPE];
-        text = new Text();
-        values = new Val[NAMES + 1];
+        text = new byte[TEXT];
+        digits = new byte[TEXT];
+        rest = new Big(8);
+        values = new Value[NAMES + 1];
         for (int i = 0; i <= NAMES; i++) {
-            values[i] = new Val();
+            values[i] = new Value();
         }
         values[IT].setFraction(0, 1);
-        reader = new Reader();
+        reader = new Reader(tape);
         desk = new Desk();
         place = -1;
     }
@@ -63,7 +69,7 @@ public final class RootAlgebra {
     public int line() {
         int length = fed;
         fed = 0;
-        if (!reader.reads(tape, length)) {
+        if (!reader.reads(length)) {
             place = reader.at;
             return NO_LINE;
         }
@@ -71,6 +77,12 @@ public final class RootAlgebra {
         int answer = 0;
         for (int i = 0; i < Reader.ROOM && answer == 0 && desk.at < reader.size; i++) {
             answer = desk.step(reader.code, reader.size, values);
+            if (answer == Desk.TO_REDUCE) {
+                answer = desk.reduce();
+            }
+            if (answer == Desk.TO_CHOOSE) {
+                answer = desk.choose();
+            }
             if (answer == Desk.TO_SEARCH) {
                 answer = desk.search();
             }
@@ -98,7 +110,7 @@ public final class RootAlgebra {
             case 2:
                 return fed;
             case 3:
-                return text.length;
+                return written;
             case 4:
                 return done;
             default:
@@ -117,7 +129,7 @@ public final class RootAlgebra {
         if (!isName(name)) {
             throw new IllegalArgumentException();
         }
-        Val v = values[name];
+        Value v = values[name];
         if (v.degree == 0 || k < 0 || k > v.degree) {
             throw new NoSuchElementException();
         }
@@ -161,37 +173,40 @@ public final class RootAlgebra {
         if (values[name].degree == 0) {
             throw new NoSuchElementException();
         }
-        text.clear();
-        text.putBig(desk.gauge.wholePart(values[name], n));
-        return text.length;
+        written = 0;
+        rest.set(desk.gauge.wholePart(values[name], n));
+        putRest();
+        return written;
     }
 
     public int write(int name) throws IllegalArgumentException, NoSuchElementException {
         if (!isName(name)) {
             throw new IllegalArgumentException();
         }
-        Val v = values[name];
+        Value v = values[name];
         if (v.degree == 0) {
             throw new NoSuchElementException();
         }
-        text.clear();
+        written = 0;
         for (int i = 0; i <= v.degree; i++) {
-            text.put(i == 0 ? '[' : ',');
-            text.putNumber(v.c[i]);
+            put(i == 0 ? '[' : ',');
+            rest.setLong(v.c[i]);
+            putRest();
         }
-        text.put(']');
-        text.put('#');
-        text.putNumber(v.index);
-        return text.length;
+        put(']');
+        put('#');
+        rest.setLong(v.index);
+        putRest();
+        return written;
     }
 
     public long out(int k) throws NoSuchElementException {
-        if (k < 0 || k >= text.length) {
+        if (k < 0 || k >= written) {
             throw new NoSuchElementException();
         }
         long eight = 0;
         for (int i = 7; i >= 0; i--) {
-            int b = k + i < text.length ? text.bytes[k + i] & 0xFF : 0;
+            int b = k + i < written ? text[k + i] & 0xFF : 0;
             eight = eight << 8 | b;
         }
         return eight;
@@ -220,57 +235,29 @@ public final class RootAlgebra {
         return count;
     }
 
-    /** The bytes that were written latest. */
-    private static final class Text {
-        private static final int BILLION = 1000000000;
-        private final byte[] bytes;
-        private final byte[] reversed;
-        private final Big rest;
-        private int length;
-
-        Text() {
-            bytes = new byte[TEXT];
-            reversed = new byte[TEXT];
-            rest = new Big(12);
+    private void put(int b) {
+        if (written < TEXT) {
+            text[written] = (byte) b;
+            written++;
         }
+    }
 
-        void clear() {
-            length = 0;
+    /** Writes the number in rest, which is used up. */
+    private void putRest() {
+        if (rest.sign < 0) {
+            put('-');
         }
-
-        void put(int b) {
-            if (length < bytes.length) {
-                bytes[length] = (byte) b;
-                length++;
+        int count = 0;
+        for (int i = 0; i < 9 && (rest.sign != 0 || i == 0); i++) {
+            int nine = rest.divide(BILLION);
+            for (int j = 0; j < 9 && (nine != 0 || rest.sign != 0 || count == 0); j++) {
+                digits[count] = (byte) ('0' + nine % 10);
+                nine /= 10;
+                count++;
             }
         }
-
-        void putNumber(long v) {
-            rest.setLong(v);
-            putRest();
-        }
-
-        void putBig(Big v) {
-            rest.set(v);
-            putRest();
-        }
-
-        private void putRest() {
-            if (rest.sign < 0) {
-                put('-');
-            }
-            int count = 0;
-            for (int i = 0; i < 12 && (rest.sign != 0 || i == 0); i++) {
-                int nine = rest.divide(BILLION);
-                for (int j = 0; j < 9 && (nine != 0 || rest.sign != 0 || count == 0); j++) {
-                    reversed[count] = (byte) ('0' + nine % 10);
-                    nine /= 10;
-                    count++;
-                }
-            }
-            for (int i = count - 1; i >= 0; i--) {
-                put(reversed[i]);
-            }
+        for (int i = count - 1; i >= 0; i--) {
+            put(digits[i]);
         }
     }
 
@@ -279,7 +266,7 @@ public final class RootAlgebra {
         private static final long LOW = 0xFFFFFFFFL;
         private final int[] words;
         private int size;
-        private int sign;
+        int sign;
 
         Big(int room) {
             words = new int[room];
@@ -437,11 +424,22 @@ public final class RootAlgebra {
             return (int) rest;
         }
 
+        /** What is left over by a number above 0, from 0 on also for a number below 0. */
+        int residue(int m) {
+            if (m <= 0) {
+                return 0;
+            }
+            long left = 0;
+            for (int i = size - 1; i >= 0; i--) {
+                left = (left << 32 | words[i] & LOW) % m;
+            }
+            return sign < 0 && left != 0 ? m - (int) left : (int) left;
+        }
+
         void divideDown(int d) {
             boolean below = sign < 0;
-            int rest = divide(d);
-            if (below && rest != 0) {
-                addLong(-1);
+            if (divide(d) != 0 && below) {
+                fartherBelow();
             }
         }
 
@@ -502,8 +500,24 @@ public final class RootAlgebra {
             size = end;
             trim();
             if (lost) {
-                addLong(-1);
+                fartherBelow();
             }
+        }
+
+        /** One less, of a number that is not above 0. */
+        private void fartherBelow() {
+            int i = 0;
+            while (i < size && words[i] == -1) {
+                words[i] = 0;
+                i++;
+            }
+            if (i < size) {
+                words[i]++;
+            } else if (size < words.length) {
+                words[size] = 1;
+                size++;
+            }
+            sign = -1;
         }
 
         private boolean hasBitBelow(int bits) {
@@ -549,9 +563,9 @@ public final class RootAlgebra {
     /** A polynomial with whole coefficients, the lowest one first. */
     private static final class Poly {
         private static final int MOST = 12;
-        private static final int ROOM = 34;
-        private final Big[] c;
-        private int degree;
+        private static final int ROOM = 28;
+        final Big[] c;
+        int degree;
 
         Poly() {
             c = new Big[MOST + 1];
@@ -560,7 +574,7 @@ public final class RootAlgebra {
             }
         }
 
-        void set(Val v) {
+        void set(Value v) {
             degree = v.degree;
             for (int i = 0; i <= degree; i++) {
                 c[i].setLong(v.c[i]);
@@ -568,7 +582,7 @@ public final class RootAlgebra {
         }
 
         /** f of x to the k. */
-        void setStretched(Val v, int k) {
+        void setStretched(Value v, int k) {
             degree = v.degree * k;
             for (int i = 0; i <= degree && i <= MOST; i++) {
                 c[i].setLong(i % k == 0 ? v.c[i / k] : 0);
@@ -584,7 +598,7 @@ public final class RootAlgebra {
         }
 
         /** Divides by a value's polynomial as often as that goes; whether it went once. */
-        boolean strip(Val v, Poly work) {
+        boolean strip(Value v, Poly work) {
             boolean once = false;
             for (int i = 0; i <= MOST && degree >= v.degree && divides(v, work); i++) {
                 once = true;
@@ -597,7 +611,7 @@ public final class RootAlgebra {
         }
 
         /** Leaves the quotient in work from the divisor's degree on; as the divisor has no content, it is whole. */
-        private boolean divides(Val v, Poly work) {
+        private boolean divides(Value v, Poly work) {
             int d = v.degree;
             for (int i = 0; i <= degree; i++) {
                 work.c[i].set(c[i]);
@@ -624,17 +638,17 @@ public final class RootAlgebra {
      * A value: its polynomial and which of its real roots it is. From degree 2 on it is the only root between
      * low and low + 1, both over 2 to the scale; neither of them is a root, as those are not rational.
      */
-    private static final class Val {
+    private static final class Value {
         private static final int ROOM = 12;
-        private final int[] c;
-        private final Big low;
-        private int degree;
-        private int index;
-        private int roots;
-        private int negatives;
-        private int scale;
+        final int[] c;
+        final Big low;
+        int degree;
+        int index;
+        int roots;
+        int negatives;
+        int scale;
 
-        Val() {
+        Value() {
             c = new int[HIGHEST + 1];
             low = new Big(ROOM);
         }
@@ -677,7 +691,7 @@ public final class RootAlgebra {
             return x;
         }
 
-        void copy(Val o) {
+        void copy(Value o) {
             degree = o.degree;
             System.arraycopy(o.c, 0, c, 0, HIGHEST + 1);
             low.set(o.low);
@@ -695,7 +709,7 @@ public final class RootAlgebra {
             return degree == 1 ? c[0] > 0 : low.sign < 0;
         }
 
-        boolean hasPolynomialOf(Val o) {
+        boolean hasPolynomialOf(Value o) {
             if (degree != o.degree) {
                 return false;
             }
@@ -752,7 +766,7 @@ public final class RootAlgebra {
 
     /** Reads a line as a whole and leaves what is to be worked, each operation behind its numbers. */
     private static final class Reader {
-        private static final int ROOM = 1000;
+        private static final int ROOM = 820;
         private static final int DEEPEST = 12;
         private static final int MOST_DIGITS = 9;
         private static final int MOST_COEFFICIENTS = 9;
@@ -767,21 +781,21 @@ public final class RootAlgebra {
         private static final int POLYNOMIAL = 9;
         private static final int ORDER = 10;
 
-        private final int[] code;
-        private byte[] tape;
+        final int[] code;
+        private final byte[] tape;
         private int length;
-        private int at;
-        private int size;
-        private int target;
+        int at;
+        int size;
+        int target;
 
-        Reader() {
+        Reader(byte[] bytes) {
+            tape = bytes;
             code = new int[ROOM];
         }
 
         /** When it is false, at is the place. */
-        boolean reads(byte[] bytes, int count) {
-            tape = bytes;
-            length = count;
+        boolean reads(int count) {
+            length = Math.min(count, tape.length);
             at = 0;
             size = 0;
             readTarget();
@@ -993,30 +1007,34 @@ public final class RootAlgebra {
 
     /** Works what was read, on a stack of values. */
     private static final class Desk {
-        private static final int TO_SEARCH = 1;
-        private static final int TO_SETTLE = 2;
-        private static final int DEEP = 40;
+        private static final int TO_REDUCE = 1;
+        private static final int TO_CHOOSE = 2;
+        private static final int TO_SEARCH = 3;
+        private static final int TO_SETTLE = 4;
+        private static final int DEEP = 32;
         private static final int HIGHEST_PRODUCT = 12;
         private static final int ROUNDS = 8;
+        private static final int MOST_FACTORS = 10000;
 
-        private final Val[] stack;
-        private final Val found;
+        private final Value[] stack;
+        private final Value found;
         private final Poly poly;
         private final Poly candidate;
         private final Poly work;
         private final Sums sums;
         private final Factors factors;
         private final Isolator isolator;
-        private final Gauge gauge;
+        final Gauge gauge;
         private int top;
-        private int at;
+        private int number;
+        int at;
 
         Desk() {
-            stack = new Val[DEEP];
+            stack = new Value[DEEP];
             for (int i = 0; i < DEEP; i++) {
-                stack[i] = new Val();
+                stack[i] = new Value();
             }
-            found = new Val();
+            found = new Value();
             poly = new Poly();
             candidate = new Poly();
             work = new Poly();
@@ -1031,62 +1049,62 @@ public final class RootAlgebra {
             at = 0;
         }
 
-        Val result() {
+        Value result() {
             return stack[0];
         }
 
-        /** One operation: 0, an answer below 0, or what is still to be done for it. */
-        int step(int[] code, int size, Val[] values) {
+        /** One operation: 0, an answer below 0, or which part of it is to be done next. */
+        int step(int[] code, int size, Value[] values) {
             int word = at < size ? code[at] : 0;
             int detail = at + 1 < size ? code[at + 1] : 0;
             at++;
             switch (word) {
                 case Reader.NUMBER:
                     at++;
-                    return push(null, detail);
+                    pushSlot().setFraction(detail, 1);
+                    return 0;
                 case Reader.NAME:
                     at++;
-                    Val v = values[detail & NAMES - 1];
-                    return v.degree == 0 ? NO_NAME_VALUE : push(v, 0);
+                    return recall(values[Math.floorMod(detail, NAMES)]);
+                case Reader.NEGATE:
+                    topSlot().negate();
+                    return 0;
                 case Reader.ROOT:
                     at++;
-                    return top < 1 ? 0 : rootOfOrder(stack[top - 1], detail);
+                    return rootOfOrder(topSlot(), detail);
                 case Reader.POLYNOMIAL:
-                    return push(null, 0) + rootOfPolynomial(code, size);
-                case Reader.NEGATE:
-                    if (top > 0) {
-                        stack[top - 1].negate();
-                    }
+                    pushSlot();
+                    return rootOfPolynomial(code, size);
+                case Reader.ORDER:
+                    top = Math.max(top - 1, 1);
+                    topSlot().setFraction(gauge.order(topSlot(), stack[top]), 1);
                     return 0;
                 default:
-                    return operate(word);
+                    top = Math.max(top - 1, 1);
+                    return operate(word, topSlot(), stack[top]);
             }
         }
 
-        private int push(Val v, int number) {
-            if (top < DEEP) {
-                if (v == null) {
-                    stack[top].setFraction(number, 1);
-                } else {
-                    stack[top].copy(v);
-                }
-                top++;
+        /** A line has at most 12 brackets open, each with two numbers before it, so that there is always room. */
+        private Value pushSlot() {
+            top = Math.min(top + 1, DEEP - 1);
+            return topSlot();
+        }
+
+        private Value topSlot() {
+            return stack[Math.max(top - 1, 0)];
+        }
+
+        private int recall(Value v) {
+            if (v.degree == 0) {
+                return NAME_WITHOUT_VALUE;
             }
+            pushSlot().copy(v);
             return 0;
         }
 
-        /** An operation on two numbers; what comes out is in the place of the first one. */
-        private int operate(int word) {
-            if (top < 2) {
-                return 0;
-            }
-            top--;
-            Val x = stack[top - 1];
-            Val y = stack[top];
-            if (word == Reader.ORDER) {
-                x.setFraction(gauge.order(x, y), 1);
-                return 0;
-            }
+        /** An operation on two numbers; what comes out goes to the place of the first one. */
+        private int operate(int word, Value x, Value y) {
             if (word == Reader.DIVIDE && y.isZero()) {
                 return BY_ZERO;
             }
@@ -1109,17 +1127,18 @@ public final class RootAlgebra {
                 return 0;
             }
             sums.build(x, y, times, poly);
-            if (x.degree == 1) {
-                return joinFraction(y, x, times);
+            if (x.degree > 1 && y.degree > 1) {
+                gauge.aimAtPair(x, y, times);
+                return TO_SEARCH;
             }
-            if (y.degree == 1) {
-                return joinFraction(x, y, times);
-            }
-            gauge.aimAtPair(x, y, times);
-            return factors.prepare(poly) ? TO_SEARCH : NO_VALUE;
+            Value fraction = x.degree == 1 ? x : y;
+            Value v = x.degree == 1 ? y : x;
+            number = times && fraction.isNegative() ? v.roots - 1 - v.index : v.index;
+            return TO_REDUCE;
         }
 
-        private void findAgain(Val v) {
+        /** Where the root with a value's index lies. */
+        private void findAgain(Value v) {
             if (v.degree > 1) {
                 candidate.set(v);
                 isolator.isolate(candidate);
@@ -1127,7 +1146,7 @@ public final class RootAlgebra {
             }
         }
 
-        private int joinFractions(Val x, Val y, boolean times) {
+        private int joinFractions(Value x, Value y, boolean times) {
             long a = -(long) x.c[0];
             long b = x.c[1];
             long c = -(long) y.c[0];
@@ -1136,19 +1155,18 @@ public final class RootAlgebra {
             return x.setQuotient(n, b * d) ? 0 : NO_VALUE;
         }
 
-        /** With a fraction the built polynomial stays irreducible, and the order of its roots is known. */
-        private int joinFraction(Val v, Val fraction, boolean times) {
-            int number = times && fraction.isNegative() ? v.roots - 1 - v.index : v.index;
+        /** With a fraction the built polynomial has no factors, and the order of its roots is known. */
+        int reduce() {
             if (!factors.reduceWhole(poly, found) || !poly.strip(found, work)) {
                 return NO_VALUE;
             }
             found.index = number;
             findAgain(found);
-            stack[top - 1].copy(found);
+            topSlot().copy(found);
             return 0;
         }
 
-        private int rootOfOrder(Val x, int k) {
+        private int rootOfOrder(Value x, int k) {
             if (k < 2 || k * x.degree > HIGHEST_PRODUCT) {
                 return TOO_HIGH;
             }
@@ -1161,15 +1179,12 @@ public final class RootAlgebra {
             }
             poly.setStretched(x, k);
             int positives = x.roots - x.negatives;
-            int number = even ? positives + x.index - x.negatives : x.index;
-            if (!factors.prepare(poly)) {
-                return NO_VALUE;
-            }
-            return takeRoot(number);
+            number = even ? positives + x.index - x.negatives : x.index;
+            return TO_CHOOSE;
         }
 
         private int rootOfPolynomial(int[] code, int size) {
-            int number = at < size ? code[at] : 0;
+            number = at < size ? code[at] : 0;
             int count = at + 1 < size ? code[at + 1] : 0;
             at += 2;
             poly.degree = 0;
@@ -1180,17 +1195,15 @@ public final class RootAlgebra {
                 }
             }
             at += count;
-            if (poly.degree == 0) {
-                return NO_ROOT;
-            }
+            return poly.degree == 0 ? NO_ROOT : TO_CHOOSE;
+        }
+
+        /** Takes the root with the wanted number of the polynomial at hand. */
+        int choose() {
             if (!factors.prepare(poly)) {
                 return NO_VALUE;
             }
             factors.makeSquareFree(poly);
-            return takeRoot(number);
-        }
-
-        private int takeRoot(int number) {
             isolator.isolate(poly);
             if (number < 0 || number >= isolator.count) {
                 return NO_ROOT;
@@ -1201,23 +1214,21 @@ public final class RootAlgebra {
                 gauge.aimAtRoot(low, scale);
                 return TO_SEARCH;
             }
-            if (scale < 0) {
-                low.shiftUp(-scale);
-            }
+            low.shiftUp(-scale);
             int down = Math.max(scale, 0);
-            for (int i = 0; i < 64 && down > 0 && !low.isOdd(); i++) {
+            for (int i = 0; i < Isolator.DEEPEST && down > 0 && !low.isOdd(); i++) {
                 low.shiftDown(1);
                 down--;
             }
-            return stack[top - 1].setQuotient(low.toLong(), 1L << Math.min(down, 62)) ? 0 : NO_VALUE;
+            return topSlot().setQuotient(low.toLong(), 1L << Math.min(down, 62)) ? 0 : NO_VALUE;
         }
 
-        /** Goes through the factors until one has the aimed number as a root. */
+        /** Goes through the factors of the polynomial at hand until one has the aimed number as a root. */
         int search() {
-            if (!factors.begin()) {
+            if (!gauge.fixed && !factors.prepare(poly) || !factors.begin()) {
                 return NO_VALUE;
             }
-            for (int i = 0; i < 10000 && factors.next(found); i++) {
+            for (int i = 0; i < MOST_FACTORS && factors.next(found); i++) {
                 if (!poly.strip(found, work)) {
                     continue;
                 }
@@ -1235,23 +1246,23 @@ public final class RootAlgebra {
             return NO_VALUE;
         }
 
-        /** Finds which root of the found polynomial it is. */
+        /** Tells which root of the found polynomial the aimed number is. */
         int settle() {
-            if (top < 1) {
-                return NO_VALUE;
-            }
             if (found.degree == 1) {
                 found.finishFraction();
             } else {
                 isolator.isolate(candidate);
-                int number = gauge.locate(isolator);
-                for (int j = 0; j < ROUNDS && number < 0; j++) {
+                int which = gauge.locate(isolator);
+                for (int j = 0; j < ROUNDS && which < 0; j++) {
                     gauge.sharpen();
-                    number = gauge.locate(isolator);
+                    which = gauge.locate(isolator);
                 }
-                found.lieAt(isolator, number);
+                if (which < 0) {
+                    return NO_VALUE;
+                }
+                found.lieAt(isolator, which);
             }
-            stack[top - 1].copy(found);
+            topSlot().copy(found);
             return 0;
         }
     }
@@ -1278,7 +1289,7 @@ public final class RootAlgebra {
             term = new Big(2 * Poly.ROOM);
         }
 
-        void build(Val x, Val y, boolean times, Poly to) {
+        void build(Value x, Value y, boolean times, Poly to) {
             int n = Math.min(x.degree * y.degree, Poly.MOST);
             powerSums(x, n, left);
             powerSums(y, n, right);
@@ -1296,7 +1307,7 @@ public final class RootAlgebra {
         }
 
         /** Newton's identities, nested so that only single coefficients multiply. */
-        private void powerSums(Val v, int n, Big[] to) {
+        private void powerSums(Value v, int n, Big[] to) {
             int m = v.degree;
             to[0].setLong(m);
             for (int k = 1; k <= n; k++) {
@@ -1369,25 +1380,22 @@ public final class RootAlgebra {
      * given one of (x + k) / 2 to the scale.
      */
     private static final class Isolator {
-        private static final int ROOM = 136;
-        private static final int MOST_BITS = 3200;
+        private static final int ROOM = 96;
+        private static final int MOST_BITS = 2600;
+        private static final int DEEPEST = 370;
         private static final int STEPS = 100000;
-        private static final int NONE = 0;
-        private static final int OPEN = 1;
-        private static final int EXACT = 2;
-        private static final int SPLIT = 3;
 
         private final Big[] f;
         private final Big[] g;
         private final Big cell;
-        private final Big[] low;
-        private final int[] scale;
-        private final boolean[] exact;
+        final Big[] low;
+        final int[] scale;
+        final boolean[] exact;
         private int degree;
         private int first;
         private int depth;
-        private int count;
-        private int negatives;
+        int count;
+        int negatives;
 
         Isolator() {
             f = new Big[Poly.MOST + 1];
@@ -1396,10 +1404,10 @@ public final class RootAlgebra {
                 f[i] = new Big(ROOM);
                 g[i] = new Big(ROOM);
             }
-            cell = new Big(Val.ROOM);
+            cell = new Big(Value.ROOM);
             low = new Big[Poly.MOST];
             for (int i = 0; i < Poly.MOST; i++) {
-                low[i] = new Big(Val.ROOM);
+                low[i] = new Big(Value.ROOM);
             }
             scale = new int[Poly.MOST];
             exact = new boolean[Poly.MOST];
@@ -1409,12 +1417,14 @@ public final class RootAlgebra {
             start(p);
             boolean more = true;
             for (int i = 0; i < STEPS && more; i++) {
-                int kind = classify();
-                if (kind == SPLIT && (depth - first + 1) * degree < MOST_BITS) {
+                boolean atStart = f[0].sign == 0;
+                int changes = hasChange() ? changesInside() : 0;
+                boolean many = changes > 1 || changes == 1 && atStart;
+                if (many && depth - first < DEEPEST && (depth - first + 1) * degree < MOST_BITS) {
                     split();
                 } else {
-                    if (kind == OPEN || kind == EXACT) {
-                        record(kind == EXACT);
+                    if (!many && (atStart || changes == 1)) {
+                        record(atStart);
                     }
                     more = advance();
                 }
@@ -1454,23 +1464,16 @@ public final class RootAlgebra {
             return most == -100000 ? 0 : most + 1;
         }
 
-        private int classify() {
-            boolean zero = f[0].sign == 0;
-            int changes = 0;
+        private boolean hasChange() {
             int last = 0;
-            for (int i = 0; i <= degree && changes == 0; i++) {
-                if (f[i].sign != 0 && f[i].sign == -last) {
-                    changes++;
+            for (int i = 0; i <= degree; i++) {
+                int sign = f[i].sign;
+                if (sign != 0 && sign == -last) {
+                    return true;
                 }
-                last = f[i].sign != 0 ? f[i].sign : last;
+                last = sign != 0 ? sign : last;
             }
-            if (changes != 0) {
-                changes = changesInside();
-            }
-            if (changes == 0) {
-                return zero ? EXACT : NONE;
-            }
-            return changes == 1 && !zero ? OPEN : SPLIT;
+            return false;
         }
 
         /** How often the signs change in (1 + x)^n f(1 / (1 + x)): 0, 1, or 2 for more. */
@@ -1534,8 +1537,9 @@ public final class RootAlgebra {
 
     /** Binary digits of values, and the tests that lean on them. */
     private static final class Gauge {
-        private static final int ROOM = 140;
-        private static final int FIRST_BITS = 64;
+        private static final int LONG = 132;
+        private static final int SHORT = 48;
+        private static final int FIRST_BITS = 32;
         private static final int MOST_BITS = 640;
         private static final int WIDEST = 28;
         private static final int STEPS = 5000;
@@ -1551,29 +1555,29 @@ public final class RootAlgebra {
         private final Big mid;
         private final Big one;
         private final Big other;
-        private Val x;
-        private Val y;
+        private Value x;
+        private Value y;
         private boolean times;
-        private boolean fixed;
+        boolean fixed;
         private int bits;
         private int spread;
 
         Gauge() {
-            left = new Big(ROOM);
-            right = new Big(ROOM);
-            here = new Big(ROOM);
-            beside = new Big(ROOM);
-            at = new Big(ROOM);
-            point = new Big(ROOM);
-            term = new Big(ROOM);
-            spare = new Big(ROOM);
-            mid = new Big(ROOM);
-            one = new Big(ROOM);
-            other = new Big(ROOM);
+            left = new Big(LONG);
+            right = new Big(LONG);
+            here = new Big(LONG);
+            beside = new Big(LONG);
+            at = new Big(SHORT);
+            point = new Big(SHORT);
+            term = new Big(LONG);
+            spare = new Big(LONG);
+            mid = new Big(SHORT);
+            one = new Big(SHORT);
+            other = new Big(SHORT);
         }
 
         /** The greatest whole number that is not above the value times 2 to the wanted bits. */
-        private void approximate(Val v, int wanted, Big to) {
+        private void approximate(Value v, int wanted, Big to) {
             if (v.degree == 1) {
                 to.setLong(-(long) v.c[0]);
                 to.shiftUp(wanted);
@@ -1606,7 +1610,7 @@ public final class RootAlgebra {
          * Cuts the cell that holds the root into 2 to the width parts and looks whether the root is in the one where
          * a straight line between the ends would have it, or beside; with two parts it always finds it.
          */
-        private boolean narrow(Val v, Big to, int scale, int width) {
+        private boolean narrow(Value v, Big to, int scale, int width) {
             long guess = 1;
             if (width > 1) {
                 int from = Math.max(0, Math.max(left.bits(), right.bits()) - 34);
@@ -1634,7 +1638,7 @@ public final class RootAlgebra {
         }
 
         /** The polynomial's value at k over 2 to the scale, times a power of 2 that hangs on the scale alone. */
-        private void evaluate(Val v, Big k, int scale, Big to) {
+        private void evaluate(Value v, Big k, int scale, Big to) {
             point.set(k);
             point.shiftUp(-scale);
             to.setLong(v.c[v.degree]);
@@ -1647,12 +1651,12 @@ public final class RootAlgebra {
             }
         }
 
-        int order(Val v, Val w) {
+        int order(Value v, Value w) {
             if (v.hasPolynomialOf(w)) {
                 return Integer.compare(v.index, w.index);
             }
             int answer = 0;
-            for (int b = FIRST_BITS / 2; b <= MOST_BITS && answer == 0; b = b < 512 ? 2 * b : b + 128) {
+            for (int b = FIRST_BITS; b <= MOST_BITS && answer == 0; b = b < 512 ? 2 * b : b + 128) {
                 approximate(v, b, one);
                 approximate(w, b, other);
                 answer = one.order(other);
@@ -1661,7 +1665,7 @@ public final class RootAlgebra {
         }
 
         /** The greatest whole number that is not above the value times 10 to the n. */
-        Big wholePart(Val v, int n) {
+        Big wholePart(Value v, int n) {
             if (v.degree == 1) {
                 one.setLong(-(long) v.c[0]);
                 timesTen(one, n);
@@ -1689,7 +1693,7 @@ public final class RootAlgebra {
             }
         }
 
-        void aimAtPair(Val first, Val second, boolean product) {
+        void aimAtPair(Value first, Value second, boolean product) {
             x = first;
             y = second;
             times = product;
@@ -1725,7 +1729,7 @@ public final class RootAlgebra {
         }
 
         /** Whether the aimed number is a root of the candidate: 1, -1; 0 if the digits do not tell yet. */
-        int judge(Val found, Poly candidate, Poly rest) {
+        int judge(Value found, Poly candidate, Poly rest) {
             if (rest.degree == 0) {
                 return 1;
             }
@@ -1806,15 +1810,16 @@ public final class RootAlgebra {
     /** Polynomials modulo a prime, in rows with the lowest coefficient first. */
     private static final class Field {
         private static final int ROOM = 28;
-        private int p;
+        int p;
         private final int[] product;
         private final int[] power;
-        private int[] common;
+        int[] common;
         private int[] spareCommon;
-        private int[] cofactor;
+        int[] cofactor;
         private int[] spareCofactor;
 
         Field() {
+            p = 2;
             product = new int[ROOM];
             power = new int[ROOM];
             common = new int[ROOM];
@@ -1835,39 +1840,46 @@ public final class RootAlgebra {
             return result;
         }
 
+        int negative(int a) {
+            return a == 0 ? 0 : p - a;
+        }
+
         /** a times b modulo h, whose degree is d and highest coefficient 1; the two are shorter than h. */
         void multiply(int[] a, int[] b, int[] h, int d, int[] to) {
             for (int i = 0; i < 2 * d; i++) {
                 product[i] = 0;
             }
             for (int i = 0; i < d; i++) {
-                for (int j = 0; j < d; j++) {
-                    product[i + j] += a[i] * b[j];
+                int f = a[i];
+                if (f != 0) {
+                    for (int j = 0; j < d; j++) {
+                        product[i + j] += f * b[j];
+                    }
                 }
             }
             reduce(product, 2 * d - 2, h, d);
             System.arraycopy(product, 0, to, 0, d);
         }
 
-        /** a, with coefficients of any size, modulo h in its own row. */
+        /** a modulo h in its own row; sums of 24 products of residues fit. */
         void reduce(int[] a, int n, int[] h, int d) {
             for (int i = n; i >= d; i--) {
-                int q = Math.floorMod(a[i], p);
+                int q = a[i] % p;
                 a[i] = 0;
-                for (int j = 0; j < d; j++) {
-                    a[i - d + j] -= q * h[j];
+                if (q != 0) {
+                    for (int j = 0; j < d; j++) {
+                        a[i - d + j] += (p - q) * h[j];
+                    }
                 }
             }
             for (int i = 0; i < d; i++) {
-                a[i] = Math.floorMod(a[i], p);
+                a[i] %= p;
             }
         }
 
         void raise(int[] a, int e, int[] h, int d, int[] to) {
-            for (int i = 0; i < d; i++) {
-                power[i] = a[i];
-                to[i] = a[i];
-            }
+            System.arraycopy(a, 0, power, 0, d);
+            System.arraycopy(a, 0, to, 0, d);
             for (int bit = Integer.highestOneBit(e) >> 1; bit > 0; bit >>= 1) {
                 multiply(to, to, h, d, to);
                 if ((e & bit) != 0) {
@@ -1876,21 +1888,21 @@ public final class RootAlgebra {
             }
         }
 
-        /** a over b, both with the highest coefficient 1, when it goes. */
+        /** a over b, both with the highest coefficient 1, when it goes; to may be a. */
         void divide(int[] a, int n, int[] b, int d, int[] to) {
             System.arraycopy(a, 0, product, 0, n + 1);
             for (int i = n; i >= d; i--) {
-                int q = Math.floorMod(product[i], p);
+                int q = product[i] % p;
                 to[i - d] = q;
                 for (int j = 0; j < d; j++) {
-                    product[i - d + j] -= q * b[j];
+                    product[i - d + j] += (p - q) * b[j];
                 }
             }
         }
 
         /**
          * The degree of the greatest common divisor, which is left in common with the highest coefficient 1; cofactor
-         * times b is the same modulo a. -1 when both are 0.
+         * times b is the same modulo a.
          */
         int euclid(int[] a, int n, int[] b, int m) {
             for (int i = 0; i < ROOM; i++) {
@@ -1901,11 +1913,11 @@ public final class RootAlgebra {
             }
             int high = degreeOf(common, n);
             int less = degreeOf(spareCommon, m);
-            for (int i = 0; i < 100 && less >= 0; i++) {
+            for (int i = 0; i < 4 * ROOM && less >= 0; i++) {
                 if (high >= less) {
-                    int q = common[high] * inverse(spareCommon[less]) % p;
-                    subtractShifted(common, spareCommon, q, high - less);
-                    subtractShifted(cofactor, spareCofactor, q, high - less);
+                    int q = p - common[high] * inverse(spareCommon[less]) % p;
+                    addShifted(common, spareCommon, q, high - less, high);
+                    addShifted(cofactor, spareCofactor, q, high - less, n);
                     high = degreeOf(common, high);
                 }
                 if (high < less) {
@@ -1917,7 +1929,7 @@ public final class RootAlgebra {
             }
             if (high >= 0) {
                 int f = inverse(common[high]);
-                for (int i = 0; i < ROOM; i++) {
+                for (int i = 0; i <= n; i++) {
                     common[i] = common[i] * f % p;
                     cofactor[i] = cofactor[i] * f % p;
                 }
@@ -1934,9 +1946,9 @@ public final class RootAlgebra {
             spareCofactor = kept;
         }
 
-        private void subtractShifted(int[] from, int[] what, int q, int shift) {
-            for (int i = 0; i + shift < ROOM; i++) {
-                from[i + shift] = Math.floorMod(from[i + shift] - q * what[i], p);
+        private void addShifted(int[] to, int[] what, int q, int shift, int last) {
+            for (int i = 0; i + shift <= last; i++) {
+                to[i + shift] = (to[i + shift] + q * what[i]) % p;
             }
         }
 
@@ -1961,16 +1973,17 @@ public final class RootAlgebra {
         private final Big rest;
         private int[] a;
         private int[] b;
-        private int freeDegree;
+        int freeDegree;
 
         Padic() {
+            p = 2;
             rest = new Big(Poly.ROOM);
             a = new int[ROOM];
             b = new int[ROOM];
         }
 
         void setPrime(int prime) {
-            p = prime;
+            p = Math.max(prime, 2);
             modulus = 1;
             for (int i = 0; i < DIGITS; i++) {
                 modulus *= p;
@@ -1994,12 +2007,13 @@ public final class RootAlgebra {
         /** x over y in the place of x; inverse is that of y's lowest digit. */
         private void divide(int[] x, int at, int[] y, int from, int inverse) {
             for (int i = 0; i < DIGITS; i++) {
-                int q = Math.floorMod(x[at + i], p) * inverse % p;
+                int t = x[at + i] % p;
+                int q = (t < 0 ? t + p : t) * inverse % p;
                 for (int j = 1; i + j < DIGITS; j++) {
                     x[at + i + j] -= q * y[from + j];
                 }
                 if (i + 1 < DIGITS) {
-                    x[at + i + 1] += Math.floorDiv(x[at + i] - q * y[from], p);
+                    x[at + i + 1] += (x[at + i] - q * y[from]) / p;
                 }
                 x[at + i] = q;
             }
@@ -2007,11 +2021,19 @@ public final class RootAlgebra {
 
         /** Divides all by the highest coefficient, whose lowest digit is not 0. */
         void makeMonic(int[] x, int n, int inverse) {
+            int lead = n * DIGITS;
+            boolean isOne = x[lead] == 1;
+            for (int i = 1; i < DIGITS; i++) {
+                isOne = isOne && x[lead + i] == 0;
+            }
+            if (isOne) {
+                return;
+            }
             for (int j = 0; j < n; j++) {
-                divide(x, j * DIGITS, x, n * DIGITS, inverse);
+                divide(x, j * DIGITS, x, lead, inverse);
             }
             for (int i = 0; i < DIGITS; i++) {
-                x[n * DIGITS + i] = i == 0 ? 1 : 0;
+                x[lead + i] = i == 0 ? 1 : 0;
             }
         }
 
@@ -2023,8 +2045,10 @@ public final class RootAlgebra {
                 for (int j = 0; j <= i; j++) {
                     t -= y[yAt + j] * z[zAt + i - j];
                 }
-                carry = Math.floorDiv(t, p);
-                x[at + i] = t - carry * p;
+                int digit = t % p;
+                digit += digit < 0 ? p : 0;
+                carry = (t - digit) / p;
+                x[at + i] = digit;
             }
         }
 
@@ -2075,14 +2099,7 @@ public final class RootAlgebra {
          */
         boolean squareFree(int[] x, int n, int[] to, Field field) {
             System.arraycopy(x, 0, a, 0, (n + 1) * DIGITS);
-            for (int i = 0; i < n; i++) {
-                int carry = 0;
-                for (int k = 0; k < DIGITS; k++) {
-                    int t = x[(i + 1) * DIGITS + k] * (i + 1) + carry;
-                    carry = t / p;
-                    b[i * DIGITS + k] = t - carry * p;
-                }
-            }
+            setDerivative(x, n);
             int high = n;
             int less = n - 1;
             for (int round = 0; round <= Poly.MOST && less >= 0; round++) {
@@ -2100,10 +2117,19 @@ public final class RootAlgebra {
             System.arraycopy(x, 0, to, 0, (n + 1) * DIGITS);
             divideBy(to, n, a, high);
             freeDegree = n - high;
-            for (int i = 0; i < (freeDegree + 1) * DIGITS; i++) {
-                to[i] = to[i + high * DIGITS];
-            }
+            System.arraycopy(to, high * DIGITS, to, 0, (freeDegree + 1) * DIGITS);
             return true;
+        }
+
+        private void setDerivative(int[] x, int n) {
+            for (int i = 0; i < n; i++) {
+                int carry = 0;
+                for (int k = 0; k < DIGITS; k++) {
+                    int t = x[(i + 1) * DIGITS + k] * (i + 1) + carry;
+                    carry = t / p;
+                    b[i * DIGITS + k] = t - carry * p;
+                }
+            }
         }
 
         private int degreeOf(int[] x, int most) {
@@ -2117,14 +2143,14 @@ public final class RootAlgebra {
             return -1;
         }
 
-        /** A coefficient times a factor below 2^31, the residue that is nearest to 0. */
+        /** A coefficient times a factor from 1 to 2^31 - 1, the residue that is nearest to 0. */
         long residue(int[] x, int at, int factor) {
             long carry = 0;
             long sum = 0;
             long power = 1;
             for (int i = 0; i < DIGITS; i++) {
                 long t = (long) x[at + i] * factor + carry;
-                carry = Math.floorDiv(t, (long) p);
+                carry = t / p;
                 sum += (t - carry * p) * power;
                 power *= p;
             }
@@ -2142,26 +2168,26 @@ public final class RootAlgebra {
             }
             long half = modulus >>> 1;
             long q = 2 * (half / less);
-            long rest = half % less;
-            if (rest >= less - rest) {
-                rest -= less - rest;
+            long left = half % less;
+            if (left >= less - left) {
+                left -= less - left;
                 q++;
             } else {
-                rest += rest;
+                left += left;
             }
-            rest++;
-            if (rest == less) {
-                rest = 0;
+            left++;
+            if (left == less) {
+                left = 0;
                 q++;
             }
             long high = less;
             long before = 1;
             long now = q;
-            for (int i = 0; i < 100 && rest > LIMIT; i++) {
-                q = high / rest;
-                long kept = high % rest;
-                high = rest;
-                rest = kept;
+            for (int i = 0; i < 100 && left > LIMIT; i++) {
+                q = high / left;
+                long kept = high % left;
+                high = left;
+                left = kept;
                 kept = before + q * now;
                 before = now;
                 now = kept;
@@ -2176,6 +2202,7 @@ public final class RootAlgebra {
         private static final int[] PRIMES = {1451, 1453, 1459, 1471, 1481, 1483, 1487, 1489, 1493, 1499, 1511, 1523,
             1531, 1543, 1549, 1553, 1559, 1567, 1571, 1579, 1583, 1597, 1601, 1607, 1609, 1613, 1619, 1621};
         private static final int TRIES = 3;
+        private static final int FEW_PARTS = 4;
         private static final int ROUNDS = 300;
 
         private final Field field;
@@ -2184,7 +2211,7 @@ public final class RootAlgebra {
         private final int[] free;
         private final int[] base;
         private final int[] row;
-        private final int[] frobenius;
+        private final int[] mix;
         private final int[] error;
         private final int[][] matrix;
         private final int[][] basis;
@@ -2194,6 +2221,7 @@ public final class RootAlgebra {
         private final int[] sizes;
         private final int[] product;
         private final int[] kept;
+        private int nextPrime;
         private int degree;
         private int parts;
         private int alive;
@@ -2206,7 +2234,7 @@ public final class RootAlgebra {
             free = new int[Padic.ROOM];
             base = new int[Field.ROOM];
             row = new int[Field.ROOM];
-            frobenius = new int[Field.ROOM];
+            mix = new int[Field.ROOM];
             error = new int[Field.ROOM];
             matrix = new int[Poly.MOST][Poly.MOST];
             basis = new int[Poly.MOST][Poly.MOST];
@@ -2218,38 +2246,67 @@ public final class RootAlgebra {
             kept = new int[Padic.ROOM];
         }
 
-        /** Takes the prime of a few that leaves the fewest factors; false when none serves. */
+        /** Readies the search for the factors of a polynomial; false when no prime serves. */
         boolean prepare(Poly r) {
-            int best = 0;
-            int bestDegree = 0;
-            int bestParts = 0;
-            int tries = 0;
-            boolean few = false;
-            for (int i = 0; i < PRIMES.length && tries < TRIES && !few; i++) {
-                if (load(r, PRIMES[i])) {
-                    tries++;
-                    countParts();
-                    if (degree > bestDegree || degree == bestDegree && parts < bestParts) {
-                        best = PRIMES[i];
-                        bestDegree = degree;
-                        bestParts = parts;
-                    }
-                    few = parts <= 2;
+            nextPrime = 0;
+            for (int i = 0; i < PRIMES.length && choosePrime(r); i++) {
+                if (loadDigits(r)) {
+                    return true;
                 }
             }
-            if (best == 0) {
-                return false;
+            return false;
+        }
+
+        /** Takes the prime of the next few that leaves the fewest parts; false when there is none. */
+        private boolean choosePrime(Poly r) {
+            int best = 0;
+            int bestDegree = 0;
+            int tries = 0;
+            int fewest = Poly.MOST + 1;
+            while (nextPrime < PRIMES.length && tries < TRIES && fewest > FEW_PARTS) {
+                if (loadResidues(r, PRIMES[nextPrime])) {
+                    tries++;
+                    countParts();
+                    if (degree > bestDegree || degree == bestDegree && parts < fewest) {
+                        best = PRIMES[nextPrime];
+                        bestDegree = degree;
+                        fewest = parts;
+                    }
+                }
+                nextPrime++;
             }
-            if (best != field.p) {
-                load(r, best);
+            if (best != 0 && best != field.p && loadResidues(r, best)) {
                 countParts();
             }
+            return best != 0;
+        }
+
+        /** The residues of the polynomial with each multiple factor once, and the highest coefficient 1. */
+        private boolean loadResidues(Poly r, int prime) {
+            int n = r.degree;
+            field.p = prime;
+            int lead = r.c[n].residue(prime);
+            if (lead == 0) {
+                return false;
+            }
+            int f = field.inverse(lead);
+            for (int j = 0; j <= n; j++) {
+                base[j] = r.c[j].residue(prime) * f % prime;
+                if (j > 0) {
+                    row[j - 1] = base[j] * j % prime;
+                }
+            }
+            int common = field.euclid(base, n, row, n - 1);
+            if (common > 0) {
+                System.arraycopy(field.common, 0, row, 0, common + 1);
+                field.divide(base, n, row, common, base);
+            }
+            degree = n - common;
             return true;
         }
 
-        private boolean loadMonic(Poly r, int prime) {
-            field.p = prime;
-            padic.setPrime(prime);
+        private boolean loadMonic(Poly r) {
+            padic.setPrime(field.p);
             for (int j = 0; j <= r.degree; j++) {
                 padic.load(r.c[j], whole, j * Padic.DIGITS);
             }
@@ -2261,41 +2318,26 @@ public final class RootAlgebra {
             return true;
         }
 
-        private boolean load(Poly r, int prime) {
-            if (!loadMonic(r, prime)) {
+        /** The digits that belong to the residues; false when these show a multiple factor that is none. */
+        private boolean loadDigits(Poly r) {
+            if (!loadMonic(r)) {
                 return false;
             }
-            int n = r.degree;
-            for (int j = 0; j <= n; j++) {
-                base[j] = whole[j * Padic.DIGITS];
-                if (j > 0) {
-                    row[j - 1] = base[j] * j % prime;
-                }
-            }
-            degree = n;
-            if (field.euclid(base, n, row, n - 1) == 0) {
+            if (degree == r.degree) {
                 System.arraycopy(whole, 0, free, 0, Padic.ROOM);
                 return true;
             }
-            if (!padic.squareFree(whole, n, free, field)) {
-                return false;
-            }
-            degree = padic.freeDegree;
-            for (int j = 0; j <= degree; j++) {
-                base[j] = free[j * Padic.DIGITS];
-            }
-            return true;
+            return padic.squareFree(whole, r.degree, free, field) && padic.freeDegree == degree;
         }
 
-        /** Leaves each multiple root once. The factor that was taken out leaves coefficients far below 2^63. */
+        /** Leaves each multiple root once. What divides a polynomial of a line has coefficients far below 2^63. */
         void makeSquareFree(Poly r) {
             if (degree == r.degree) {
                 return;
             }
             int lead = (int) r.c[r.degree].toLong();
-            int sign = lead < 0 ? -1 : 1;
             for (int j = 0; j <= degree; j++) {
-                r.c[j].setLong(sign * padic.residue(free, j * Padic.DIGITS, sign * lead));
+                r.c[j].setLong(padic.residue(free, j * Padic.DIGITS, Math.abs(lead)));
             }
             r.degree = degree;
         }
@@ -2306,17 +2348,18 @@ public final class RootAlgebra {
                 row[i] = i == 1 ? 1 : 0;
             }
             if (degree == 1) {
-                row[0] = Math.floorMod(-base[0], field.p);
+                row[0] = field.negative(base[0]);
             }
-            field.raise(row, field.p, base, degree, frobenius);
+            field.raise(row, field.p, base, degree, mix);
             for (int i = 0; i < degree; i++) {
                 row[i] = i == 0 ? 1 : 0;
             }
             for (int i = 0; i < degree; i++) {
                 for (int j = 0; j < degree; j++) {
-                    matrix[j][i] = i == j ? Math.floorMod(row[j] - 1, field.p) : row[j];
+                    matrix[j][i] = row[j];
                 }
-                field.multiply(row, frobenius, base, degree, row);
+                matrix[i][i] = (matrix[i][i] + field.p - 1) % field.p;
+                field.multiply(row, mix, base, degree, row);
             }
             solve();
         }
@@ -2344,7 +2387,7 @@ public final class RootAlgebra {
                     basis[k][i] = i == error[k] ? 1 : 0;
                 }
                 for (int i = 0; i < rank; i++) {
-                    basis[k][sizes[i]] = Math.floorMod(-matrix[i][error[k]], field.p);
+                    basis[k][sizes[i]] = field.negative(matrix[i][error[k]]);
                 }
             }
         }
@@ -2359,8 +2402,8 @@ public final class RootAlgebra {
             for (int i = 0; i < degree; i++) {
                 int q = matrix[i][col];
                 if (i != rank && q != 0) {
-                    for (int j = 0; j < degree; j++) {
-                        matrix[i][j] = Math.floorMod(matrix[i][j] - q * matrix[rank][j], field.p);
+                    for (int j = col; j < degree; j++) {
+                        matrix[i][j] = (matrix[i][j] + (field.p - q) * matrix[rank][j]) % field.p;
                     }
                 }
             }
@@ -2390,13 +2433,13 @@ public final class RootAlgebra {
             int seed = 12345;
             for (int round = 0; round < ROUNDS && count < parts; round++) {
                 for (int i = 0; i < degree; i++) {
-                    frobenius[i] = 0;
+                    mix[i] = 0;
                 }
                 for (int k = 0; k < parts; k++) {
                     seed = seed * 1103515245 + 12345;
                     int f = (seed >>> 8) % field.p;
                     for (int i = 0; i < degree; i++) {
-                        frobenius[i] = (frobenius[i] + f * basis[k][i]) % field.p;
+                        mix[i] = (mix[i] + f * basis[k][i]) % field.p;
                     }
                 }
                 int had = count;
@@ -2409,23 +2452,24 @@ public final class RootAlgebra {
             parts = count;
         }
 
-        private boolean splits(int i, int free) {
+        /** Where the mix is a square modulo some parts of a piece and none modulo others, the piece falls apart. */
+        private boolean splits(int i, int next) {
             int d = sizes[i];
-            if (d < 2 || free >= Poly.MOST) {
+            if (d < 2 || next >= Poly.MOST) {
                 return false;
             }
             int[] piece = pieces[i];
-            System.arraycopy(frobenius, 0, row, 0, degree);
+            System.arraycopy(mix, 0, row, 0, degree);
             field.reduce(row, degree - 1, piece, d);
             field.raise(row, (field.p - 1) / 2, piece, d, error);
-            error[0] = Math.floorMod(error[0] - 1, field.p);
+            error[0] = (error[0] + field.p - 1) % field.p;
             int g = field.euclid(piece, d, error, d - 1);
             if (g < 1 || g >= d) {
                 return false;
             }
             System.arraycopy(field.common, 0, row, 0, g + 1);
-            field.divide(piece, d, row, g, pieces[free]);
-            sizes[free] = d - g;
+            field.divide(piece, d, row, g, pieces[next]);
+            sizes[next] = d - g;
             System.arraycopy(row, 0, piece, 0, g + 1);
             sizes[i] = g;
             return true;
@@ -2434,33 +2478,36 @@ public final class RootAlgebra {
         /** Hensel: one more digit of all parts in each round. */
         private void lift() {
             for (int i = 0; i < parts; i++) {
-                int d = sizes[i];
-                field.divide(base, degree, pieces[i], d, row);
-                int rest = degree - d;
-                field.reduce(row, rest, pieces[i], d);
-                field.euclid(pieces[i], d, row, Math.min(rest, d - 1));
-                System.arraycopy(field.cofactor, 0, inverses[i], 0, d);
-                for (int j = 0; j < Padic.ROOM; j++) {
-                    lifts[i][j] = 0;
-                }
-                for (int j = 0; j <= d; j++) {
-                    lifts[i][j * Padic.DIGITS] = pieces[i][j];
-                }
+                startLift(i, sizes[i]);
             }
             for (int digit = 1; digit < Padic.DIGITS; digit++) {
                 multiplyParts((1 << parts) - 1, digit + 1);
                 for (int j = 0; j < degree; j++) {
                     int at = j * Padic.DIGITS + digit;
-                    error[j] = Math.floorMod(free[at] - product[at], field.p);
+                    error[j] = (free[at] - product[at] + field.p) % field.p;
                 }
                 for (int i = 0; i < parts; i++) {
-                    correct(i, digit);
+                    correct(i, sizes[i], digit);
                 }
             }
         }
 
-        private void correct(int i, int digit) {
-            int d = sizes[i];
+        /** The inverse of the other parts' product modulo the part tells its share of an error. */
+        private void startLift(int i, int d) {
+            int rest = degree - d;
+            field.divide(base, degree, pieces[i], d, row);
+            field.reduce(row, rest, pieces[i], d);
+            field.euclid(pieces[i], d, row, Math.min(rest, d - 1));
+            System.arraycopy(field.cofactor, 0, inverses[i], 0, d);
+            for (int j = 0; j < Padic.ROOM; j++) {
+                lifts[i][j] = 0;
+            }
+            for (int j = 0; j <= d; j++) {
+                lifts[i][j * Padic.DIGITS] = pieces[i][j];
+            }
+        }
+
+        private void correct(int i, int d, int digit) {
             System.arraycopy(error, 0, row, 0, degree);
             field.reduce(row, degree - 1, pieces[i], d);
             field.multiply(row, inverses[i], pieces[i], d, row);
@@ -2472,16 +2519,14 @@ public final class RootAlgebra {
         /** The degree of the product of these parts, which is left in product. */
         private int multiplyParts(int which, int digits) {
             int d = 0;
-            boolean first = true;
             for (int i = 0; i < parts; i++) {
                 if ((which >> i & 1) != 0) {
-                    if (first) {
+                    if (d == 0) {
                         System.arraycopy(lifts[i], 0, product, 0, Padic.ROOM);
                     } else {
                         System.arraycopy(product, 0, kept, 0, (d + 1) * Padic.DIGITS);
                         padic.multiply(kept, d, lifts[i], sizes[i], product, digits);
                     }
-                    first = false;
                     d += sizes[i];
                 }
             }
@@ -2492,7 +2537,7 @@ public final class RootAlgebra {
          * The next product of parts that may be a value's polynomial, the ones of fewer parts first, so that what
          * divides has no divisor itself.
          */
-        boolean next(Val to) {
+        boolean next(Value to) {
             int all = 1 << parts;
             int few = Math.max(1, Integer.bitCount(mask));
             for (int count = few; count <= HIGHEST && count <= parts; count++) {
@@ -2509,6 +2554,7 @@ public final class RootAlgebra {
             return false;
         }
 
+        /** The parts of the latest product belong to a factor that is known now. */
         void remove() {
             alive &= ~mask;
         }
@@ -2521,8 +2567,8 @@ public final class RootAlgebra {
             return d;
         }
 
-        /** The polynomial without content that the residues of one with highest coefficient 1 belong to. */
-        private boolean reconstruct(int[] x, int d, Val to) {
+        /** The polynomial without content that the digits of one with highest coefficient 1 belong to. */
+        private boolean reconstruct(int[] x, int d, Value to) {
             int lead = 1;
             for (int j = d - 1; j >= 0; j--) {
                 int q = padic.denominator(padic.residue(x, j * Padic.DIGITS, lead));
@@ -2543,13 +2589,14 @@ public final class RootAlgebra {
             return true;
         }
 
-        /** For a polynomial that is known to be irreducible: the value's polynomial that it is a multiple of. */
-        boolean reduceWhole(Poly r, Val to) {
+        /** For a polynomial that is known to have no factors: the value's polynomial that it is a multiple of. */
+        boolean reduceWhole(Poly r, Value to) {
             if (r.degree > HIGHEST) {
                 return false;
             }
             for (int i = 0; i < PRIMES.length; i++) {
-                if (loadMonic(r, PRIMES[i])) {
+                field.p = PRIMES[i];
+                if (loadMonic(r)) {
                     return reconstruct(whole, r.degree, to);
                 }
             }
