@@ -784,6 +784,7 @@ public final class RootAlgebra {
         final int[] code;
         private final byte[] tape;
         private int length;
+        private int value;
         int at;
         int size;
         int target;
@@ -884,40 +885,34 @@ public final class RootAlgebra {
                 at++;
                 c = next();
             }
-            if (!plainFactor(c, depth)) {
-                return false;
+            boolean good = false;
+            if (c >= '0' && c <= '9') {
+                good = number();
+                emit(NUMBER);
+                emit(value);
+            } else if (c >= 'a' && c <= 'p') {
+                good = true;
+                at++;
+                emit(NAME);
+                emit(c - 'a');
+            } else if (c == '(') {
+                good = bracket(depth);
+            } else if (c == '#') {
+                good = rootOfOrder(depth);
+            } else if (c == '@') {
+                good = rootOfPolynomial(depth);
             }
             if (minus) {
                 emit(NEGATE);
             }
-            return true;
+            return good;
         }
 
-        private boolean plainFactor(int c, int depth) {
-            if (c >= '0' && c <= '9') {
-                emit(NUMBER);
-                return number(1);
-            }
-            if (c >= 'a' && c <= 'p') {
-                at++;
-                emit(NAME);
-                emit(c - 'a');
-                return true;
-            }
-            if (c == '(') {
-                return bracket(depth);
-            }
-            if (c == '#') {
-                return rootOfOrder(depth);
-            }
-            return c == '@' && rootOfPolynomial(depth);
-        }
-
-        /** Emits the number, times a sign. */
-        private boolean number(int sign) {
-            int value = 0;
+        /** Whether there is a number of 1 to 9 digits, which is left in value; a tenth one is the place. */
+        private boolean number() {
             int digits = 0;
-            for (int i = 0; i <= MOST_DIGITS && at < length && tape[at] >= '0' && tape[at] <= '9'; i++) {
+            value = 0;
+            while (at < length && tape[at] >= '0' && tape[at] <= '9') {
                 if (digits == MOST_DIGITS) {
                     return false;
                 }
@@ -925,20 +920,15 @@ public final class RootAlgebra {
                 digits++;
                 at++;
             }
-            emit(sign * value);
             return digits > 0;
         }
 
-        private boolean opens(int depth) {
+        private boolean bracket(int depth) {
             if (next() != '(' || depth >= DEEPEST) {
                 return false;
             }
             at++;
-            return true;
-        }
-
-        private boolean bracket(int depth) {
-            if (!opens(depth) || !sum(depth + 1) || next() != ')') {
+            if (!sum(depth + 1) || next() != ')') {
                 return false;
             }
             at++;
@@ -967,17 +957,22 @@ public final class RootAlgebra {
                 return false;
             }
             at++;
-            if (!opens(depth)) {
+            if (next() != '(' || depth >= DEEPEST) {
                 return false;
             }
+            at++;
             emit(POLYNOMIAL);
             emit(i - '0');
             int counted = size;
             emit(0);
             for (int k = 1; k <= MOST_COEFFICIENTS; k++) {
-                if (!coefficientText()) {
+                boolean minus = next() == '-';
+                at += minus ? 1 : 0;
+                next();
+                if (!number()) {
                     return false;
                 }
+                emit(minus ? -value : value);
                 int c = next();
                 if (c == ')') {
                     at++;
@@ -992,16 +987,6 @@ public final class RootAlgebra {
                 at++;
             }
             return false;
-        }
-
-        private boolean coefficientText() {
-            int sign = 1;
-            if (next() == '-') {
-                sign = -1;
-                at++;
-                next();
-            }
-            return number(sign);
         }
     }
 
