@@ -194,6 +194,10 @@ public final class PromiseTest {
         Check.same("a, 7/5", c.x.compare(0, 4), 1);
         Check.same("a, near", c.x.compare(0, 5), -1);
         Check.same("IT", c.x.compare(16, 7), 0);
+        c.line("i=@1(-29881601,-95570535,-17690237,13050346,-21647803,23302092,37770841)");
+        c.line("j=123456789/100000000");
+        Check.same("less by a 10^57th", c.x.compare(8, 9), -1);
+        Check.same("greater by a 10^57th", c.x.compare(9, 8), 1);
         Check.none("compare with none", () -> c.x.compare(0, 15));
         Check.none("compare none", () -> c.x.compare(15, 0));
         Check.illegal("compare none with 17", () -> c.x.compare(15, 17));
@@ -231,6 +235,11 @@ public final class PromiseTest {
         c.line("f=@1(-1,200000000,0,0,0,0,1)");
         Check.same("floor next to 1/200000000", c.floor(5, 9), "4");
         Check.same("floor next to 1/200000000", c.floor(5, 30), "4999999999999999999999");
+        c.line("g=@1(-29881601,-95570535,-17690237,13050346,-21647803,23302092,37770841)");
+        Check.same("floor a 10^57th below 1.23456789", c.floor(6, 8), "123456788");
+        Check.same("floor a 10^57th below 1.23456789", c.floor(6, 30), "1234567889999999999999999999999");
+        c.line("h=@1(-13494073,60052447,101512373,82380733,-98774662,83018575,-23505071)");
+        Check.same("floor a 10^58th above 2.71828183", c.floor(7, 30), "2718281830000000000000000000000");
         Check.illegal("floor 31", () -> c.x.floor(0, 31));
         Check.illegal("floor -1", () -> c.x.floor(0, -1));
         Check.illegal("floor of none with 31", () -> c.x.floor(15, 31));
