@@ -2205,7 +2205,6 @@ public final class RootAlgebra {
         private final int[][] lifts;
         private final int[] sizes;
         private final int[] product;
-        private final int[] kept;
         private int nextPrime;
         private int degree;
         private int parts;
@@ -2228,7 +2227,6 @@ public final class RootAlgebra {
             lifts = new int[Poly.MOST][Padic.ROOM];
             sizes = new int[Poly.MOST];
             product = new int[Padic.ROOM];
-            kept = new int[Padic.ROOM];
         }
 
         /** Readies the search for the factors of a polynomial; false when no prime serves. */
@@ -2501,7 +2499,7 @@ public final class RootAlgebra {
             }
         }
 
-        /** The degree of the product of these parts, which is left in product. */
+        /** The degree of the product of these parts, which is left in product; whole is free by then. */
         private int multiplyParts(int which, int digits) {
             int d = 0;
             for (int i = 0; i < parts; i++) {
@@ -2509,8 +2507,8 @@ public final class RootAlgebra {
                     if (d == 0) {
                         System.arraycopy(lifts[i], 0, product, 0, Padic.ROOM);
                     } else {
-                        System.arraycopy(product, 0, kept, 0, (d + 1) * Padic.DIGITS);
-                        padic.multiply(kept, d, lifts[i], sizes[i], product, digits);
+                        System.arraycopy(product, 0, whole, 0, (d + 1) * Padic.DIGITS);
+                        padic.multiply(whole, d, lifts[i], sizes[i], product, digits);
                     }
                     d += sizes[i];
                 }
