@@ -581,6 +581,13 @@ public final class RootAlgebra {
             }
         }
 
+        void set(Poly o) {
+            degree = o.degree;
+            for (int i = 0; i <= degree; i++) {
+                c[i].set(o.c[i]);
+            }
+        }
+
         /** f of x to the k. */
         void setStretched(Value v, int k) {
             degree = v.degree * k;
@@ -1185,10 +1192,7 @@ public final class RootAlgebra {
 
         /** Takes the root with the wanted number of the polynomial at hand. */
         int choose() {
-            if (!factors.prepare(poly)) {
-                return NO_VALUE;
-            }
-            factors.makeSquareFree(poly);
+            factors.makeSquareFree(poly, candidate, work);
             isolator.isolate(poly);
             if (number < 0 || number >= isolator.count) {
                 return NO_ROOT;
@@ -1210,7 +1214,10 @@ public final class RootAlgebra {
 
         /** Goes through the factors of the polynomial at hand until one has the aimed number as a root. */
         int search() {
-            if (!gauge.fixed && !factors.prepare(poly) || !factors.begin()) {
+            if (!gauge.fixed) {
+                factors.makeSquareFree(poly, candidate, work);
+            }
+            if (!factors.prepare(poly) || !factors.begin()) {
                 return NO_VALUE;
             }
             for (int i = 0; i < MOST_FACTORS && factors.next(found); i++) {
@@ -1522,10 +1529,10 @@ public final class RootAlgebra {
 
     /** Binary digits of values, and the tests that lean on them. */
     private static final class Gauge {
-        private static final int LONG = 132;
-        private static final int SHORT = 48;
+        private static final int LONG = 400;
+        private static final int SHORT = 72;
         private static final int FIRST_BITS = 32;
-        private static final int MOST_BITS = 640;
+        private static final int MOST_BITS = 2048;
         private static final int WIDEST = 28;
         private static final int STEPS = 5000;
 
@@ -1703,8 +1710,9 @@ public final class RootAlgebra {
             approximate(x, bits, one);
             approximate(y, bits, other);
             if (times) {
-                mid.setProduct(one, other);
-                mid.shiftDown(bits);
+                term.setProduct(one, other);
+                term.shiftDown(bits);
+                mid.set(term);
                 spread = 3 + Math.max(0, Math.max(one.bits(), other.bits()) - bits);
             } else {
                 mid.set(one);
@@ -1792,30 +1800,30 @@ public final class RootAlgebra {
         }
     }
 
-    /** Polynomials modulo a prime, in rows with the lowest coefficient first. */
+    /** Polynomials modulo a prime below 2^16, in rows with the lowest coefficient first. */
     private static final class Field {
         private static final int ROOM = 28;
         int p;
-        private final int[] product;
-        private final int[] power;
-        int[] common;
-        private int[] spareCommon;
-        int[] cofactor;
-        private int[] spareCofactor;
+        private final long[] product;
+        private final long[] power;
+        long[] common;
+        private long[] spareCommon;
+        long[] cofactor;
+        private long[] spareCofactor;
 
         Field() {
-            p = 2;
-            product = new int[ROOM];
-            power = new int[ROOM];
-            common = new int[ROOM];
-            spareCommon = new int[ROOM];
-            cofactor = new int[ROOM];
-            spareCofactor = new int[ROOM];
+            p = 3;
+            product = new long[ROOM];
+            power = new long[ROOM];
+            common = new long[ROOM];
+            spareCommon = new long[ROOM];
+            cofactor = new long[ROOM];
+            spareCofactor = new long[ROOM];
         }
 
-        int inverse(int a) {
-            int result = 1;
-            int square = a;
+        long inverse(long a) {
+            long result = 1;
+            long square = a;
             for (int e = p - 2; e > 0; e >>= 1) {
                 if ((e & 1) != 0) {
                     result = result * square % p;
@@ -1825,17 +1833,17 @@ public final class RootAlgebra {
             return result;
         }
 
-        int negative(int a) {
+        long negative(long a) {
             return a == 0 ? 0 : p - a;
         }
 
         /** a times b modulo h, whose degree is d and highest coefficient 1; the two are shorter than h. */
-        void multiply(int[] a, int[] b, int[] h, int d, int[] to) {
+        void multiply(long[] a, long[] b, long[] h, int d, long[] to) {
             for (int i = 0; i < 2 * d; i++) {
                 product[i] = 0;
             }
             for (int i = 0; i < d; i++) {
-                int f = a[i];
+                long f = a[i];
                 if (f != 0) {
                     for (int j = 0; j < d; j++) {
                         product[i + j] += f * b[j];
@@ -1846,10 +1854,10 @@ public final class RootAlgebra {
             System.arraycopy(product, 0, to, 0, d);
         }
 
-        /** a modulo h in its own row; sums of 24 products of residues fit. */
-        void reduce(int[] a, int n, int[] h, int d) {
+        /** a modulo h in its own row, which may hold sums of products of residues. */
+        void reduce(long[] a, int n, long[] h, int d) {
             for (int i = n; i >= d; i--) {
-                int q = a[i] % p;
+                long q = a[i] % p;
                 a[i] = 0;
                 if (q != 0) {
                     for (int j = 0; j < d; j++) {
@@ -1862,22 +1870,22 @@ public final class RootAlgebra {
             }
         }
 
-        void raise(int[] a, int e, int[] h, int d, int[] to) {
+        void raise(long[] a, int e, long[] h, int d, long[] to) {
             System.arraycopy(a, 0, power, 0, d);
             System.arraycopy(a, 0, to, 0, d);
             for (int bit = Integer.highestOneBit(e) >> 1; bit > 0; bit >>= 1) {
                 multiply(to, to, h, d, to);
                 if ((e & bit) != 0) {
-                    multiply(to, power, h, d, to);
+                    multiply(power, to, h, d, to);
                 }
             }
         }
 
-        /** a over b, both with the highest coefficient 1, when it goes; to may be a. */
-        void divide(int[] a, int n, int[] b, int d, int[] to) {
+        /** a over b, which has the highest coefficient 1, when it goes; to may be a. */
+        void divide(long[] a, int n, long[] b, int d, long[] to) {
             System.arraycopy(a, 0, product, 0, n + 1);
             for (int i = n; i >= d; i--) {
-                int q = product[i] % p;
+                long q = product[i] % p;
                 to[i - d] = q;
                 for (int j = 0; j < d; j++) {
                     product[i - d + j] += (p - q) * b[j];
@@ -1889,7 +1897,7 @@ public final class RootAlgebra {
          * The degree of the greatest common divisor, which is left in common with the highest coefficient 1; cofactor
          * times b is the same modulo a.
          */
-        int euclid(int[] a, int n, int[] b, int m) {
+        int euclid(long[] a, int n, long[] b, int m) {
             for (int i = 0; i < ROOM; i++) {
                 common[i] = i <= n ? a[i] : 0;
                 spareCommon[i] = i <= m ? b[i] : 0;
@@ -1900,7 +1908,7 @@ public final class RootAlgebra {
             int less = degreeOf(spareCommon, m);
             for (int i = 0; i < 4 * ROOM && less >= 0; i++) {
                 if (high >= less) {
-                    int q = p - common[high] * inverse(spareCommon[less]) % p;
+                    long q = p - common[high] * inverse(spareCommon[less]) % p;
                     addShifted(common, spareCommon, q, high - less, high);
                     addShifted(cofactor, spareCofactor, q, high - less, n);
                     high = degreeOf(common, high);
@@ -1913,7 +1921,7 @@ public final class RootAlgebra {
                 }
             }
             if (high >= 0) {
-                int f = inverse(common[high]);
+                long f = inverse(common[high]);
                 for (int i = 0; i <= n; i++) {
                     common[i] = common[i] * f % p;
                     cofactor[i] = cofactor[i] * f % p;
@@ -1923,7 +1931,7 @@ public final class RootAlgebra {
         }
 
         private void swapRows() {
-            int[] kept = common;
+            long[] kept = common;
             common = spareCommon;
             spareCommon = kept;
             kept = cofactor;
@@ -1931,13 +1939,13 @@ public final class RootAlgebra {
             spareCofactor = kept;
         }
 
-        private void addShifted(int[] to, int[] what, int q, int shift, int last) {
+        private void addShifted(long[] to, long[] what, long q, int shift, int last) {
             for (int i = 0; i + shift <= last; i++) {
                 to[i + shift] = (to[i + shift] + q * what[i]) % p;
             }
         }
 
-        private int degreeOf(int[] a, int most) {
+        private int degreeOf(long[] a, int most) {
             int d = most;
             while (d >= 0 && a[d] == 0) {
                 d--;
@@ -1947,35 +1955,30 @@ public final class RootAlgebra {
     }
 
     /**
-     * Polynomials modulo a prime to the 6th: every coefficient is 6 digits in base p, the lowest first. The power is
+     * Polynomials modulo a prime to the 4th: every coefficient is 4 digits in base p, the lowest first. The power is
      * above 2 * (2^31 - 1)^2, so that a fraction of two coefficients of a value is told by it, and below 2^64.
      */
     private static final class Padic {
-        private static final int DIGITS = 6;
+        private static final int DIGITS = 4;
         private static final int ROOM = (Poly.MOST + 1) * DIGITS;
         private int p;
         private long modulus;
         private final Big rest;
-        private int[] a;
-        private int[] b;
-        int freeDegree;
 
         Padic() {
-            p = 2;
+            p = 3;
             rest = new Big(Poly.ROOM);
-            a = new int[ROOM];
-            b = new int[ROOM];
         }
 
         void setPrime(int prime) {
-            p = Math.max(prime, 2);
+            p = Math.max(prime, 3);
             modulus = 1;
             for (int i = 0; i < DIGITS; i++) {
                 modulus *= p;
             }
         }
 
-        void load(Big v, int[] to, int at) {
+        void load(Big v, long[] to, int at) {
             rest.set(v);
             int borrow = 0;
             for (int i = 0; i < DIGITS; i++) {
@@ -1990,10 +1993,10 @@ public final class RootAlgebra {
         }
 
         /** x over y in the place of x; inverse is that of y's lowest digit. */
-        private void divide(int[] x, int at, int[] y, int from, int inverse) {
+        private void divide(long[] x, int at, long[] y, int from, long inverse) {
             for (int i = 0; i < DIGITS; i++) {
-                int t = x[at + i] % p;
-                int q = (t < 0 ? t + p : t) * inverse % p;
+                long t = x[at + i] % p;
+                long q = (t < 0 ? t + p : t) * inverse % p;
                 for (int j = 1; i + j < DIGITS; j++) {
                     x[at + i + j] -= q * y[from + j];
                 }
@@ -2005,7 +2008,7 @@ public final class RootAlgebra {
         }
 
         /** Divides all by the highest coefficient, whose lowest digit is not 0. */
-        void makeMonic(int[] x, int n, int inverse) {
+        void makeMonic(long[] x, int n, long inverse) {
             int lead = n * DIGITS;
             boolean isOne = x[lead] == 1;
             for (int i = 1; i < DIGITS; i++) {
@@ -2022,32 +2025,8 @@ public final class RootAlgebra {
             }
         }
 
-        /** x less y times z. */
-        private void subtractProduct(int[] x, int at, int[] y, int yAt, int[] z, int zAt) {
-            int carry = 0;
-            for (int i = 0; i < DIGITS; i++) {
-                int t = x[at + i] + carry;
-                for (int j = 0; j <= i; j++) {
-                    t -= y[yAt + j] * z[zAt + i - j];
-                }
-                int digit = t % p;
-                digit += digit < 0 ? p : 0;
-                carry = (t - digit) / p;
-                x[at + i] = digit;
-            }
-        }
-
-        /** x modulo y, whose highest coefficient is 1; from y's degree on the quotient is left. */
-        private void divideBy(int[] x, int n, int[] y, int d) {
-            for (int i = n; i >= d; i--) {
-                for (int j = 0; j < d; j++) {
-                    subtractProduct(x, (i - d + j) * DIGITS, x, i * DIGITS, y, j * DIGITS);
-                }
-            }
-        }
-
         /** The product with so many digits of each coefficient. */
-        void multiply(int[] x, int n, int[] y, int m, int[] to, int digits) {
+        void multiply(long[] x, int n, long[] y, int m, long[] to, int digits) {
             for (int i = 0; i < (n + m + 1) * DIGITS; i++) {
                 to[i] = 0;
             }
@@ -2057,19 +2036,19 @@ public final class RootAlgebra {
                 }
             }
             for (int k = 0; k <= n + m; k++) {
-                int carry = 0;
+                long carry = 0;
                 for (int i = k * DIGITS; i < k * DIGITS + digits; i++) {
-                    int t = to[i] + carry;
+                    long t = to[i] + carry;
                     carry = t / p;
                     to[i] = t - carry * p;
                 }
             }
         }
 
-        /** Without carries: 13 times 6 products of digits fit. */
-        private void addProduct(int[] to, int at, int[] x, int xAt, int[] y, int yAt, int digits) {
+        /** Without carries, which come when all is added. */
+        private void addProduct(long[] to, int at, long[] x, int xAt, long[] y, int yAt, int digits) {
             for (int i = 0; i < digits; i++) {
-                int f = x[xAt + i];
+                long f = x[xAt + i];
                 if (f != 0) {
                     for (int j = 0; i + j < digits; j++) {
                         to[at + i + j] += f * y[yAt + j];
@@ -2078,63 +2057,13 @@ public final class RootAlgebra {
             }
         }
 
-        /**
-         * x over its common divisor with its derivative; false when the prime does not show that divisor. The rows
-         * of Euclid are those of the rational numbers as long as no highest coefficient is divisible by the prime.
-         */
-        boolean squareFree(int[] x, int n, int[] to, Field field) {
-            System.arraycopy(x, 0, a, 0, (n + 1) * DIGITS);
-            setDerivative(x, n);
-            int high = n;
-            int less = n - 1;
-            for (int round = 0; round <= Poly.MOST && less >= 0; round++) {
-                if (b[less * DIGITS] == 0) {
-                    return false;
-                }
-                makeMonic(b, less, field.inverse(b[less * DIGITS]));
-                divideBy(a, high, b, less);
-                high = less;
-                int[] kept = a;
-                a = b;
-                b = kept;
-                less = degreeOf(b, high - 1);
-            }
-            System.arraycopy(x, 0, to, 0, (n + 1) * DIGITS);
-            divideBy(to, n, a, high);
-            freeDegree = n - high;
-            System.arraycopy(to, high * DIGITS, to, 0, (freeDegree + 1) * DIGITS);
-            return true;
-        }
-
-        private void setDerivative(int[] x, int n) {
-            for (int i = 0; i < n; i++) {
-                int carry = 0;
-                for (int k = 0; k < DIGITS; k++) {
-                    int t = x[(i + 1) * DIGITS + k] * (i + 1) + carry;
-                    carry = t / p;
-                    b[i * DIGITS + k] = t - carry * p;
-                }
-            }
-        }
-
-        private int degreeOf(int[] x, int most) {
-            for (int d = most; d >= 0; d--) {
-                for (int i = 0; i < DIGITS; i++) {
-                    if (x[d * DIGITS + i] != 0) {
-                        return d;
-                    }
-                }
-            }
-            return -1;
-        }
-
         /** A coefficient times a factor from 1 to 2^31 - 1, the residue that is nearest to 0. */
-        long residue(int[] x, int at, int factor) {
+        long residue(long[] x, int at, int factor) {
             long carry = 0;
             long sum = 0;
             long power = 1;
             for (int i = 0; i < DIGITS; i++) {
-                long t = (long) x[at + i] * factor + carry;
+                long t = x[at + i] * factor + carry;
                 carry = t / p;
                 sum += (t - carry * p) * power;
                 power *= p;
@@ -2181,31 +2110,37 @@ public final class RootAlgebra {
         }
     }
 
-    /** Searches the factors of a polynomial that may belong to a value: Berlekamp's way, and Hensel's lifting. */
+    /**
+     * Searches the factors of a polynomial that may belong to a value: Berlekamp's way, and Hensel's lifting.
+     *
+     * A prime does not serve when it divides the highest coefficient, or the discriminant of the polynomial with each
+     * factor once. For the greatest polynomials at hand (degree 12, roots that are sums of two values') these two have
+     * less than 6300 bits, so that fewer than 400 of the 728 primes from FIRST_PRIME on do not serve.
+     */
     private static final class Factors {
-        /** All primes whose 6th power is between 2^63 and 2^64. */
-        private static final int[] PRIMES = {1451, 1453, 1459, 1471, 1481, 1483, 1487, 1489, 1493, 1499, 1511, 1523,
-            1531, 1543, 1549, 1553, 1559, 1567, 1571, 1579, 1583, 1597, 1601, 1607, 1609, 1613, 1619, 1621};
+        private static final int FIRST_PRIME = 57347;
+        private static final int PRIME_END = 65536;
+        private static final int MOST_PRIMES = 728;
+        private static final int MOST_BITS = 32 * Poly.ROOM - 17;
         private static final int TRIES = 3;
         private static final int FEW_PARTS = 4;
-        private static final int ROUNDS = 300;
 
         private final Field field;
         private final Padic padic;
-        private final int[] whole;
-        private final int[] free;
-        private final int[] base;
-        private final int[] row;
-        private final int[] mix;
-        private final int[] error;
-        private final int[][] matrix;
-        private final int[][] basis;
-        private final int[][] pieces;
-        private final int[][] inverses;
-        private final int[][] lifts;
+        private final Big modulus;
+        private final long[] whole;
+        private final long[] spare;
+        private final long[] base;
+        private final long[] row;
+        private final long[] mix;
+        private final long[] error;
+        private final long[][] matrix;
+        private final long[][] basis;
+        private final long[][] pieces;
+        private final long[][] inverses;
+        private final long[][] lifts;
+        private final long[] product;
         private final int[] sizes;
-        private final int[] product;
-        private int nextPrime;
         private int degree;
         private int parts;
         private int alive;
@@ -2214,78 +2149,152 @@ public final class RootAlgebra {
         Factors() {
             field = new Field();
             padic = new Padic();
-            whole = new int[Padic.ROOM];
-            free = new int[Padic.ROOM];
-            base = new int[Field.ROOM];
-            row = new int[Field.ROOM];
-            mix = new int[Field.ROOM];
-            error = new int[Field.ROOM];
-            matrix = new int[Poly.MOST][Poly.MOST];
-            basis = new int[Poly.MOST][Poly.MOST];
-            pieces = new int[Poly.MOST][Poly.MOST + 1];
-            inverses = new int[Poly.MOST][Poly.MOST + 1];
-            lifts = new int[Poly.MOST][Padic.ROOM];
+            modulus = new Big(Poly.ROOM);
+            whole = new long[Padic.ROOM];
+            spare = new long[Padic.ROOM];
+            base = new long[Field.ROOM];
+            row = new long[Field.ROOM];
+            mix = new long[Field.ROOM];
+            error = new long[Field.ROOM];
+            matrix = new long[Poly.MOST][Poly.MOST];
+            basis = new long[Poly.MOST][Poly.MOST];
+            pieces = new long[Poly.MOST][Poly.MOST + 1];
+            inverses = new long[Poly.MOST][Poly.MOST + 1];
+            lifts = new long[Poly.MOST][Padic.ROOM];
+            product = new long[Padic.ROOM];
             sizes = new int[Poly.MOST];
-            product = new int[Padic.ROOM];
         }
 
-        /** Readies the search for the factors of a polynomial; false when no prime serves. */
-        boolean prepare(Poly r) {
-            nextPrime = 0;
-            for (int i = 0; i < PRIMES.length && choosePrime(r); i++) {
-                if (loadDigits(r)) {
+        private static int primeAbove(int prime) {
+            int next = prime + 2;
+            while (next < PRIME_END && hasDivisor(next)) {
+                next += 2;
+            }
+            return next;
+        }
+
+        /** Of an odd number between 2^8 and 2^16. */
+        private static boolean hasDivisor(int odd) {
+            for (int d = 3; d < 256; d += 2) {
+                if (odd % d == 0) {
                     return true;
                 }
             }
             return false;
         }
 
-        /** Takes the prime of the next few that leaves the fewest parts; false when there is none. */
-        private boolean choosePrime(Poly r) {
-            int best = 0;
-            int bestDegree = 0;
-            int tries = 0;
-            int fewest = Poly.MOST + 1;
-            while (nextPrime < PRIMES.length && tries < TRIES && fewest > FEW_PARTS) {
-                if (loadResidues(r, PRIMES[nextPrime])) {
-                    tries++;
-                    countParts();
-                    if (degree > bestDegree || degree == bestDegree && parts < fewest) {
-                        best = PRIMES[nextPrime];
-                        bestDegree = degree;
-                        fewest = parts;
+        /**
+         * Leaves each multiple factor of r once, exactly. With r' the derivative and g its common divisor with r, both
+         * r / g and r' / g (times the highest coefficient of r) are gathered from their residues modulo primes.
+         *
+         * A prime shows at most as many different roots as there are, so the primes that show the most are right, and
+         * one that shows no multiple root ends the matter. That r divides (r / g) r', and so r / g has all roots of r,
+         * is proved when both sides of (r / g) r' = r (r' / g) are too small to be the same modulo all these primes
+         * only.
+         */
+        void makeSquareFree(Poly r, Poly once, Poly slope) {
+            once.degree = 0;
+            int prime = FIRST_PRIME;
+            for (int i = 0; i < MOST_PRIMES && prime < PRIME_END; i++) {
+                int repeated = loadResidues(r, prime);
+                if (repeated == 0) {
+                    return;
+                }
+                if (repeated > 0 && degree > once.degree) {
+                    startGathering(once, slope);
+                }
+                if (repeated > 0 && degree == once.degree && modulus.bits() < MOST_BITS) {
+                    gather(r.c[r.degree].residue(prime), once, slope);
+                    if (r.mostBits() + Math.max(once.mostBits(), slope.mostBits()) + 10 <= modulus.bits()) {
+                        r.set(once);
+                        return;
                     }
                 }
-                nextPrime++;
+                prime = primeAbove(prime);
             }
-            if (best != 0 && best != field.p && loadResidues(r, best)) {
-                countParts();
-            }
-            return best != 0;
         }
 
-        /** The residues of the polynomial with each multiple factor once, and the highest coefficient 1. */
-        private boolean loadResidues(Poly r, int prime) {
+        /**
+         * The residues of r over its highest coefficient: r / g in base, and r' / g in row. How many multiple roots
+         * are left out, -1 when the prime divides the highest coefficient.
+         */
+        private int loadResidues(Poly r, int prime) {
             int n = r.degree;
             field.p = prime;
             int lead = r.c[n].residue(prime);
             if (lead == 0) {
-                return false;
+                return -1;
             }
-            int f = field.inverse(lead);
+            long f = field.inverse(lead);
             for (int j = 0; j <= n; j++) {
                 base[j] = r.c[j].residue(prime) * f % prime;
                 if (j > 0) {
                     row[j - 1] = base[j] * j % prime;
                 }
             }
-            int common = field.euclid(base, n, row, n - 1);
-            if (common > 0) {
-                System.arraycopy(field.common, 0, row, 0, common + 1);
-                field.divide(base, n, row, common, base);
+            int repeated = field.euclid(base, n, row, n - 1);
+            if (repeated > 0) {
+                System.arraycopy(field.common, 0, mix, 0, repeated + 1);
+                field.divide(base, n, mix, repeated, base);
+                field.divide(row, n - 1, mix, repeated, row);
             }
-            degree = n - common;
-            return true;
+            degree = n - repeated;
+            return repeated;
+        }
+
+        private void startGathering(Poly once, Poly slope) {
+            modulus.setLong(1);
+            once.degree = degree;
+            slope.degree = degree - 1;
+            for (int j = 0; j <= degree; j++) {
+                once.c[j].setLong(0);
+                slope.c[j].setLong(0);
+            }
+        }
+
+        /** Makes the gathered coefficients right modulo the prime at hand, too; they are those nearest to 0. */
+        private void gather(int lead, Poly once, Poly slope) {
+            long inverse = field.inverse(modulus.residue(field.p));
+            for (int j = 0; j <= degree; j++) {
+                gatherOne(once.c[j], base[j] * lead, inverse);
+                if (j < degree) {
+                    gatherOne(slope.c[j], row[j] * lead, inverse);
+                }
+            }
+            modulus.scale(field.p);
+        }
+
+        private void gatherOne(Big c, long due, long inverse) {
+            long off = (due - c.residue(field.p)) % field.p;
+            long times = (off < 0 ? off + field.p : off) * inverse % field.p;
+            c.addTimes(modulus, (int) (2 * times > field.p ? times - field.p : times));
+        }
+
+        /** Readies the search for the factors of a polynomial without multiple ones, by a prime that leaves few parts. */
+        boolean prepare(Poly r) {
+            int best = 0;
+            int tries = 0;
+            int fewest = Poly.MOST + 1;
+            int prime = FIRST_PRIME;
+            for (int i = 0; i < MOST_PRIMES && prime < PRIME_END && tries < TRIES && fewest > FEW_PARTS; i++) {
+                if (loadResidues(r, prime) == 0) {
+                    tries++;
+                    countParts();
+                    if (parts < fewest) {
+                        best = prime;
+                        fewest = parts;
+                    }
+                }
+                prime = primeAbove(prime);
+            }
+            if (best == 0) {
+                return false;
+            }
+            if (best != field.p) {
+                loadResidues(r, best);
+                countParts();
+            }
+            return loadMonic(r);
         }
 
         private boolean loadMonic(Poly r) {
@@ -2293,36 +2302,12 @@ public final class RootAlgebra {
             for (int j = 0; j <= r.degree; j++) {
                 padic.load(r.c[j], whole, j * Padic.DIGITS);
             }
-            int lead = whole[r.degree * Padic.DIGITS];
+            long lead = whole[r.degree * Padic.DIGITS];
             if (lead == 0) {
                 return false;
             }
             padic.makeMonic(whole, r.degree, field.inverse(lead));
             return true;
-        }
-
-        /** The digits that belong to the residues; false when these show a multiple factor that is none. */
-        private boolean loadDigits(Poly r) {
-            if (!loadMonic(r)) {
-                return false;
-            }
-            if (degree == r.degree) {
-                System.arraycopy(whole, 0, free, 0, Padic.ROOM);
-                return true;
-            }
-            return padic.squareFree(whole, r.degree, free, field) && padic.freeDegree == degree;
-        }
-
-        /** Leaves each multiple root once. What divides a polynomial of a line has coefficients far below 2^63. */
-        void makeSquareFree(Poly r) {
-            if (degree == r.degree) {
-                return;
-            }
-            int lead = (int) r.c[r.degree].toLong();
-            for (int j = 0; j <= degree; j++) {
-                r.c[j].setLong(padic.residue(free, j * Padic.DIGITS, Math.abs(lead)));
-            }
-            r.degree = degree;
         }
 
         /** Berlekamp: the polynomials v with v to the p the same as v; there are as many parts as their dimension. */
@@ -2347,43 +2332,46 @@ public final class RootAlgebra {
             solve();
         }
 
-        /** The null space of the matrix. */
+        /** The null space of the matrix: a row of the basis for each column without a pivot. */
         private void solve() {
             int rank = 0;
             parts = 0;
+            int open = 0;
             for (int col = 0; col < degree; col++) {
                 int pivot = rank;
                 while (pivot < degree && matrix[pivot][col] == 0) {
                     pivot++;
                 }
                 if (pivot == degree) {
-                    error[parts] = col;
-                    parts++;
+                    open |= 1 << col;
                 } else {
                     eliminate(pivot, rank, col);
                     sizes[rank] = col;
                     rank++;
                 }
             }
-            for (int k = 0; k < parts; k++) {
-                for (int i = 0; i < degree; i++) {
-                    basis[k][i] = i == error[k] ? 1 : 0;
-                }
-                for (int i = 0; i < rank; i++) {
-                    basis[k][sizes[i]] = field.negative(matrix[i][error[k]]);
+            for (int col = 0; col < degree; col++) {
+                if ((open >> col & 1) != 0) {
+                    for (int i = 0; i < degree; i++) {
+                        basis[parts][i] = i == col ? 1 : 0;
+                    }
+                    for (int i = 0; i < rank; i++) {
+                        basis[parts][sizes[i]] = field.negative(matrix[i][col]);
+                    }
+                    parts++;
                 }
             }
         }
 
         private void eliminate(int pivot, int rank, int col) {
-            int f = field.inverse(matrix[pivot][col]);
+            long f = field.inverse(matrix[pivot][col]);
             for (int j = 0; j < degree; j++) {
-                int v = matrix[pivot][j] * f % field.p;
+                long v = matrix[pivot][j] * f % field.p;
                 matrix[pivot][j] = matrix[rank][j];
                 matrix[rank][j] = v;
             }
             for (int i = 0; i < degree; i++) {
-                int q = matrix[i][col];
+                long q = matrix[i][col];
                 if (i != rank && q != 0) {
                     for (int j = col; j < degree; j++) {
                         matrix[i][j] = (matrix[i][j] + (field.p - q) * matrix[rank][j]) % field.p;
@@ -2401,7 +2389,7 @@ public final class RootAlgebra {
             sizes[0] = degree;
             split();
             if (parts == 1) {
-                System.arraycopy(free, 0, lifts[0], 0, Padic.ROOM);
+                System.arraycopy(whole, 0, lifts[0], 0, Padic.ROOM);
             } else {
                 lift();
             }
@@ -2410,40 +2398,36 @@ public final class RootAlgebra {
             return true;
         }
 
-        /** Mixes of the basis with an own row of mixed numbers, the same in every run. */
+        /**
+         * Modulo every part each row of the basis is a number, and for two parts some row has different ones. As the
+         * squares are not the same when all are shifted, some shift of that row tells the two parts apart. The first
+         * row is 1.
+         */
         private void split() {
             int count = 1;
-            int seed = 12345;
-            for (int round = 0; round < ROUNDS && count < parts; round++) {
-                for (int i = 0; i < degree; i++) {
-                    mix[i] = 0;
-                }
-                for (int k = 0; k < parts; k++) {
-                    seed = seed * 1103515245 + 12345;
-                    int f = (seed >>> 8) % field.p;
-                    for (int i = 0; i < degree; i++) {
-                        mix[i] = (mix[i] + f * basis[k][i]) % field.p;
-                    }
-                }
-                int had = count;
-                for (int i = 0; i < had && count < parts; i++) {
-                    if (splits(i, count)) {
-                        count++;
+            for (int shift = 0; shift < field.p && count < parts; shift++) {
+                for (int k = 1; k < parts && count < parts; k++) {
+                    System.arraycopy(basis[k], 0, mix, 0, degree);
+                    mix[0] = (mix[0] + shift) % field.p;
+                    int had = count;
+                    for (int i = 0; i < had && count < parts; i++) {
+                        if (splits(i, count)) {
+                            count++;
+                        }
                     }
                 }
             }
-            parts = count;
         }
 
         /** Where the mix is a square modulo some parts of a piece and none modulo others, the piece falls apart. */
         private boolean splits(int i, int next) {
             int d = sizes[i];
-            if (d < 2 || next >= Poly.MOST) {
-                return false;
-            }
-            int[] piece = pieces[i];
+            long[] piece = pieces[i];
             System.arraycopy(mix, 0, row, 0, degree);
             field.reduce(row, degree - 1, piece, d);
+            if (next >= Poly.MOST || isNumber(row, d)) {
+                return false;
+            }
             field.raise(row, (field.p - 1) / 2, piece, d, error);
             error[0] = (error[0] + field.p - 1) % field.p;
             int g = field.euclid(piece, d, error, d - 1);
@@ -2458,6 +2442,15 @@ public final class RootAlgebra {
             return true;
         }
 
+        private static boolean isNumber(long[] a, int d) {
+            for (int i = 1; i < d; i++) {
+                if (a[i] != 0) {
+                    return false;
+                }
+            }
+            return true;
+        }
+
         /** Hensel: one more digit of all parts in each round. */
         private void lift() {
             for (int i = 0; i < parts; i++) {
@@ -2467,7 +2460,7 @@ public final class RootAlgebra {
                 multiplyParts((1 << parts) - 1, digit + 1);
                 for (int j = 0; j < degree; j++) {
                     int at = j * Padic.DIGITS + digit;
-                    error[j] = (free[at] - product[at] + field.p) % field.p;
+                    error[j] = (whole[at] - product[at] + field.p) % field.p;
                 }
                 for (int i = 0; i < parts; i++) {
                     correct(i, sizes[i], digit);
@@ -2499,7 +2492,7 @@ public final class RootAlgebra {
             }
         }
 
-        /** The degree of the product of these parts, which is left in product; whole is free by then. */
+        /** The degree of the product of these parts, which is left in product. */
         private int multiplyParts(int which, int digits) {
             int d = 0;
             for (int i = 0; i < parts; i++) {
@@ -2507,8 +2500,8 @@ public final class RootAlgebra {
                     if (d == 0) {
                         System.arraycopy(lifts[i], 0, product, 0, Padic.ROOM);
                     } else {
-                        System.arraycopy(product, 0, whole, 0, (d + 1) * Padic.DIGITS);
-                        padic.multiply(whole, d, lifts[i], sizes[i], product, digits);
+                        System.arraycopy(product, 0, spare, 0, (d + 1) * Padic.DIGITS);
+                        padic.multiply(spare, d, lifts[i], sizes[i], product, digits);
                     }
                     d += sizes[i];
                 }
@@ -2517,8 +2510,9 @@ public final class RootAlgebra {
         }
 
         /**
-         * The next product of parts that may be a value's polynomial, the ones of fewer parts first, so that what
-         * divides has no divisor itself.
+         * The next product of parts that may be a value's polynomial, the ones of fewer parts first. What divides then
+         * has no divisor itself: of several factors at most one can have a greater coefficient than a value has, when
+         * the product has none, so the others would have been found and removed before.
          */
         boolean next(Value to) {
             int all = 1 << parts;
@@ -2551,7 +2545,7 @@ public final class RootAlgebra {
         }
 
         /** The polynomial without content that the digits of one with highest coefficient 1 belong to. */
-        private boolean reconstruct(int[] x, int d, Value to) {
+        private boolean reconstruct(long[] x, int d, Value to) {
             int lead = 1;
             for (int j = d - 1; j >= 0; j--) {
                 int q = padic.denominator(padic.residue(x, j * Padic.DIGITS, lead));
@@ -2577,11 +2571,13 @@ public final class RootAlgebra {
             if (r.degree > HIGHEST) {
                 return false;
             }
-            for (int i = 0; i < PRIMES.length; i++) {
-                field.p = PRIMES[i];
+            int prime = FIRST_PRIME;
+            for (int i = 0; i < MOST_PRIMES && prime < PRIME_END; i++) {
+                field.p = prime;
                 if (loadMonic(r)) {
                     return reconstruct(whole, r.degree, to);
                 }
+                prime = primeAbove(prime);
             }
             return false;
         }
