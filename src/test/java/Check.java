@@ -102,4 +102,30 @@ final class Check {
         same("place of " + line, c.x.look(1), place);
         same("names behind " + line, c.x.look(0), 0);
     }
+
+    /** Rows of a call and its answer, "new" for a fresh object. */
+    static void rows(String[] rows) {
+        Check c = new Check();
+        for (String row : rows) {
+            if (row.equals("new")) {
+                c = new Check();
+                continue;
+            }
+            int at = row.indexOf(" > ");
+            String call = row.substring(0, at);
+            same(call, c.answer(call), row.substring(at + 3));
+        }
+    }
+
+    private String answer(String call) {
+        String[] words = call.split(" ");
+        if (words[0].equals("floor")) {
+            return floor(Integer.parseInt(words[1]), Integer.parseInt(words[2]));
+        }
+        if (words[0].equals("compare")) {
+            return String.valueOf(x.compare(Integer.parseInt(words[1]), Integer.parseInt(words[2])));
+        }
+        int answer = line(call);
+        return answer < 0 ? String.valueOf(answer) : answer + " " + write(16) + " " + x.roots(16);
+    }
 }

@@ -1037,28 +1037,7 @@ public final class TableTest {
     };
 
     public static void main(String[] args) {
-        Check c = new Check();
-        for (String row : ROWS) {
-            if (row.equals("new")) {
-                c = new Check();
-                continue;
-            }
-            int at = row.indexOf(" > ");
-            String call = row.substring(0, at);
-            Check.same(call, answer(c, call), row.substring(at + 3));
-        }
+        Check.rows(ROWS);
         Check.end();
-    }
-
-    private static String answer(Check c, String call) {
-        String[] words = call.split(" ");
-        if (words[0].equals("floor")) {
-            return c.floor(Integer.parseInt(words[1]), Integer.parseInt(words[2]));
-        }
-        if (words[0].equals("compare")) {
-            return String.valueOf(c.x.compare(Integer.parseInt(words[1]), Integer.parseInt(words[2])));
-        }
-        int answer = c.line(call);
-        return answer < 0 ? String.valueOf(answer) : answer + " " + c.write(16) + " " + c.x.roots(16);
     }
 }
