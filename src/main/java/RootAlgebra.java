@@ -2533,7 +2533,7 @@ public final class RootAlgebra {
             int few = Math.max(1, Integer.bitCount(mask));
             for (int count = few; count <= HIGHEST && count <= parts; count++) {
                 for (int m = count == few ? mask + 1 : 1; m < all; m++) {
-                    if (Integer.bitCount(m) == count && (m & ~alive) == 0 && degreeOf(m) <= HIGHEST) {
+                    if (Integer.bitCount(m) == count && (m & ~alive) == 0 && degreeOf(m) <= HIGHEST && isLikely(m)) {
                         int d = multiplyParts(m, Padic.DIGITS);
                         if (reconstruct(product, d, to)) {
                             mask = m;
@@ -2543,6 +2543,29 @@ public final class RootAlgebra {
                 }
             }
             return false;
+        }
+
+        /**
+         * Whether the second highest and the lowest coefficient of a product of parts may be those of a value's
+         * polynomial, which few false products pass; the one is a sum, the other a product of the parts' own.
+         */
+        private boolean isLikely(int which) {
+            for (int k = 0; k < Padic.DIGITS; k++) {
+                mix[k] = 0;
+                for (int i = 0; i < parts; i++) {
+                    mix[k] += (which >> i & 1) != 0 ? lifts[i][(sizes[i] - 1) * Padic.DIGITS + k] : 0;
+                }
+                product[k] = k == 0 ? 1 : 0;
+            }
+            int q = padic.denominator(padic.residue(mix, 0, 1));
+            for (int i = 0; i < parts && q != 0; i++) {
+                if ((which >> i & 1) != 0) {
+                    System.arraycopy(product, 0, spare, 0, Padic.DIGITS);
+                    padic.multiply(spare, 0, lifts[i], 0, product, Padic.DIGITS);
+                }
+            }
+            int r = q == 0 ? 0 : padic.denominator(padic.residue(product, 0, q));
+            return r != 0 && (long) q * r <= LIMIT;
         }
 
         /** The parts of the latest product belong to a factor that is known now. */
